@@ -41,7 +41,7 @@ public final class Columnworks {
     private int writerCount = 0;
     private final Reader reader = new Reader(tables);
     private final Machine machine = new Machine(tables);
-    private final Answers answers = new Answers(tables, machine);
+    private final Answers answers = new Answers(machine);
     private final Planner planner = new Planner(tables, indexes, machine);
 
     public Columnworks() {
@@ -105,10 +105,11 @@ public final class Columnworks {
     }
 
     public int change() throws IllegalArgumentException, IllegalStateException {
-        Sentence told = readChange();
+        reader.read(text);
+        Sentence told = reader.sentence;
         Table changed = tables[told.sourceTables[0]];
-        if (changed == null) {
-            throw new IllegalArgumentException("there is no such table");
+        if (!reader.hasRead(false) || changed == null) {
+            throw new IllegalArgumentException("the text is no change");
         }
         int hits = machine.countHits(told, changed);
         int added = told.kind == Code.PUT ? 1 : told.kind == Code.SET ? hits : 0;
@@ -252,7 +253,7 @@ public final class Columnworks {
 
     public int ask() throws IllegalArgumentException, IllegalStateException {
         reader.read(text);
-        if (reader.faultKind() != 0 || reader.sentence.kind != Code.FROM) {
+        if (!reader.hasRead(true)) {
             throw new IllegalArgumentException("the text is no question");
         }
         if (questionCount >= MOST_QUESTIONS) {
@@ -528,12 +529,14 @@ public final class Columnworks {
     }
 
     public boolean keptLacks(int kept, int row, int item) throws IndexOutOfBoundsException, NoSuchElementException {
-        checkKeptRow(kept, row, item);
+        Kept asked = keptNumbered(kept);
+        checkKeptRow(asked, asked.isLost ? 0 : answers.solve(asked.question, moment), row, item);
         return answers.isLack(row, item);
     }
 
     public long kept(int kept, int row, int item) throws IndexOutOfBoundsException, NoSuchElementException {
-        checkKeptRow(kept, row, item);
+        Kept asked = keptNumbered(kept);
+        checkKeptRow(asked, asked.isLost ? 0 : answers.solve(asked.question, moment), row, item);
         return answers.valueAt(row, item);
     }
 
@@ -550,7 +553,11 @@ public final class Columnworks {
 
     public int write(int writer) throws IndexOutOfBoundsException, IllegalArgumentException, IllegalStateException {
         Writer writing = writerNumbered(writer);
-        Sentence told = readChange();
+        reader.read(text);
+        Sentence told = reader.sentence;
+        if (!reader.hasRead(false)) {
+            throw new IllegalArgumentException("the text is no change");
+        }
         if (writing.state != Writer.OPEN) {
             throw new IllegalStateException("the writer is not open");
         }
@@ -685,14 +692,6 @@ public final class Columnworks {
 
     // ---- what the calls above share
 
-    private Sentence readChange() {
-        reader.read(text);
-        if (reader.faultKind() != 0 || reader.sentence.kind == Code.FROM) {
-            throw new IllegalArgumentException("the text is no change");
-        }
-        return reader.sentence;
-    }
-
     private void enterVersions(Table changed, int before) {
         for (int i = 0; i < indexCount; i++) {
             for (int place = before; indexes[i].of == changed && place < changed.count; place++) {
@@ -764,12 +763,11 @@ public final class Columnworks {
         return row * asked.items + item;
     }
 
-    private void checkKeptRow(int kept, int row, int item) {
-        Kept asked = keptNumbered(kept);
+    private void checkKeptRow(Kept asked, int there, int row, int item) {
         if (item < 0 || item >= asked.question.items) {
             throw new IndexOutOfBoundsException("there is no such item");
         }
-        if (asked.isLost || row < 0 || row >= answers.solve(asked.question, moment)) {
+        if (row < 0 || row >= there) {
             throw new NoSuchElementException("there is no such row");
         }
     }
@@ -1003,27 +1001,21 @@ public final class Columnworks {
             return place;
         }
 
-        private int spotOf(int place, int column) {
-            boolean isThere = place >= 0 && place < born.length && column >= 0 && column < columns;
-            return isThere ? place * columns + column : NONE;
-        }
-
         void putValue(int place, int column, long told, boolean isLack) {
-            int spot = spotOf(place, column);
-            if (spot >= 0) {
-                values[spot] = isLack ? 0 : told;
-                lacking[spot] = isLack;
+            if (place >= 0 && place < born.length && column >= 0 && column < columns) {
+                values[place * columns + column] = isLack ? 0 : told;
+                lacking[place * columns + column] = isLack;
             }
         }
 
         long valueAt(int place, int column) {
-            int spot = spotOf(place, column);
-            return spot < 0 ? 0 : values[spot];
+            boolean isThere = place >= 0 && place < born.length && column >= 0 && column < columns;
+            return isThere ? values[place * columns + column] : 0;
         }
 
         boolean isLack(int place, int column) {
-            int spot = spotOf(place, column);
-            return spot < 0 || lacking[spot];
+            boolean isThere = place >= 0 && place < born.length && column >= 0 && column < columns;
+            return !isThere || lacking[place * columns + column];
         }
 
         boolean isAlive(int place, int moment) {
@@ -1452,8 +1444,8 @@ public final class Columnworks {
         static final int WORDS = 26;
         static final int WIDTH = 5;
         /** The words from FIRST_WORD on, each with blanks behind it up to the width. */
-        static final String SPELLED = "put  set  drop wherelack from by   with take orderfirst"
-                + "rank over run  alongdown or   and  not  lackssome in   counttotalleastmost ";
+        static final String SPELLED =
+                "put  set  drop wherelack from by   with take orderfirstrank over run  alongdown or   and  not  lackssome in   counttotalleastmost ";
 
         private static final int MOST_PARTS = 208;
         private static final int MOST_INNER = 16;
@@ -1706,19 +1698,22 @@ public final class Columnworks {
         }
     }
 
-    /** Reads a text token by token; what is read stands in the sentence, if the text has no fault. */
+    /** Reads a text: first its tokens, then what they tell; that stands in the sentence, if there is no fault. */
     private static final class Reader {
         private static final int MOST_OPEN = 10;
         private static final int MOST_DIGITS = 9;
         private static final int MOST_LETTERS = 8;
+        private static final int MOST_TOKENS = MOST_SIGNS + 1;
 
         private final Table[] tables;
-        private StringBuilder signs = new StringBuilder(1);
         Sentence sentence = new Sentence();
+        private final int[] tokenKinds = new int[MOST_TOKENS];
+        private final int[] tokenPlaces = new int[MOST_TOKENS];
+        private final long[] tokenNumbers = new long[MOST_TOKENS];
+        private int tokens = 0;
+        /** The token at hand, and its kind: HALT behind a fault of kind 1, so that nothing more is read. */
         private int spot = 0;
-        private int kind = Code.END;
-        private int place = 0;
-        private long number = 0;
+        private int kind = Code.HALT;
         /** The place of the fault of kind 1, if there is one. */
         private int stuck = NONE;
         /** The place of the first fault of kind 2, if there is one. */
@@ -1732,8 +1727,8 @@ public final class Columnworks {
         private boolean isBehindWhere = false;
         private boolean isBehindTake = false;
         private boolean isInner = false;
-        private boolean isInAggregate = false;
-        private boolean isInOver = false;
+        /** Whether it is within an aggregate, or within the sum of a run: there no aggregate can be. */
+        private boolean isShielded = false;
         private boolean hasAggregate = false;
 
         Reader(Table[] tables) {
@@ -1748,6 +1743,11 @@ public final class Columnworks {
             return stuck != NONE ? stuck : strange;
         }
 
+        /** Whether there is no fault, and it is a question, or a change. */
+        boolean hasRead(boolean isQuestion) {
+            return stuck == NONE && strange == NONE && (sentence.kind == Code.FROM) == isQuestion;
+        }
+
         /** Gives the sentence away, to be kept, and takes a new one for the next text. */
         Sentence handOver() {
             Sentence given = sentence;
@@ -1755,9 +1755,9 @@ public final class Columnworks {
             return given;
         }
 
-        void read(StringBuilder told) {
-            restart(told);
-            advance();
+        void read(StringBuilder signs) {
+            takeTokens(signs);
+            restart();
             sentence.kind = kind;
             isChange = kind != Code.FROM;
             if (kind == Code.PUT) {
@@ -1771,15 +1771,13 @@ public final class Columnworks {
             } else {
                 refuse();
             }
-            if (kind != Code.END) {
-                refuse();
-            }
+            expect(Code.END);
         }
 
-        private void restart(StringBuilder told) {
-            signs = told;
+        private void restart() {
             sentence.clear();
             spot = 0;
+            kind = tokenKinds[0];
             stuck = NONE;
             strange = NONE;
             strangeIfGrouped = NONE;
@@ -1788,14 +1786,40 @@ public final class Columnworks {
             isBehindWhere = false;
             isBehindTake = false;
             isInner = false;
-            isInAggregate = false;
-            isInOver = false;
+            isShielded = false;
             hasAggregate = false;
         }
 
         // -- tokens
 
-        private char signAt(int at) {
+        private void takeTokens(StringBuilder signs) {
+            tokens = 0;
+            int at = 0;
+            boolean isOver = false;
+            for (int i = 0; i < MOST_TOKENS && !isOver; i++) {
+                for (int j = 0; j < MOST_SIGNS && signAt(signs, at) == ' '; j++) {
+                    at++;
+                }
+                tokenPlaces[i] = at;
+                tokenNumbers[i] = 0;
+                tokens++;
+                char sign = signAt(signs, at);
+                isOver = sign == 0;
+                if (isOver) {
+                    tokenKinds[i] = Code.END;
+                } else if (isDigit(sign)) {
+                    at = takeNumber(signs, at);
+                } else if (isLetter(sign)) {
+                    at = takeLetters(signs, at);
+                } else if (sign == '\'') {
+                    at = takeWord(signs, at);
+                } else {
+                    at = takeSign(signs, at);
+                }
+            }
+        }
+
+        private static char signAt(StringBuilder signs, int at) {
             return at >= 0 && at < signs.length() ? signs.charAt(at) : 0;
         }
 
@@ -1807,66 +1831,49 @@ public final class Columnworks {
             return sign >= 'a' && sign <= 'z';
         }
 
-        /** Goes to the next token; behind a fault of kind 1 no token can be read any more. */
-        private void advance() {
-            if (stuck != NONE) {
-                return;
+        /** Tells the last token; returns where the next one can begin. */
+        private int tell(int found, long number, int end) {
+            if (tokens > 0) {
+                tokenKinds[tokens - 1] = found;
+                tokenNumbers[tokens - 1] = number;
             }
-            for (int i = 0; i < MOST_SIGNS && signAt(spot) == ' '; i++) {
-                spot++;
-            }
-            place = spot;
-            char sign = signAt(spot);
-            if (sign == 0) {
-                kind = Code.END;
-            } else if (isDigit(sign)) {
-                takeNumber();
-            } else if (isLetter(sign)) {
-                takeLetters();
-            } else if (sign == '\'') {
-                takeWord();
-            } else {
-                takeSign(sign);
-            }
+            return end;
         }
 
-        private void takeNumber() {
-            number = 0;
-            for (int i = 0; i < MOST_SIGNS && isDigit(signAt(spot)); i++) {
-                number = number * 10 + (signAt(spot) - '0');
-                spot++;
+        private int takeNumber(StringBuilder signs, int begin) {
+            long number = 0;
+            int end = begin;
+            for (int i = 0; i < MOST_SIGNS && isDigit(signAt(signs, end)); i++) {
+                number = number * 10 + (signAt(signs, end) - '0');
+                end++;
             }
-            kind = spot - place > MOST_DIGITS ? Code.NO_TOKEN : Code.NUMBER;
+            return tell(end - begin > MOST_DIGITS ? Code.NO_TOKEN : Code.NUMBER, number, end);
         }
 
-        private void takeLetters() {
-            for (int i = 0; i < MOST_SIGNS && isLetter(signAt(spot)); i++) {
-                spot++;
+        private int takeLetters(StringBuilder signs, int begin) {
+            int end = begin;
+            for (int i = 0; i < MOST_SIGNS && isLetter(signAt(signs, end)); i++) {
+                end++;
             }
-            if (spot - place > 1) {
-                kind = wordBetween(place, spot);
-                return;
+            if (end - begin > 1) {
+                return tell(wordBetween(signs, begin, end), 0, end);
             }
-            char letter = signAt(place);
-            char behind = signAt(spot);
+            char letter = signAt(signs, begin);
+            char behind = signAt(signs, end);
             if (letter >= 'v' && behind >= '0' && behind <= '2') {
-                kind = Code.REF;
-                number = (behind - '0') * MOST_COLUMNS + (letter - 'v');
-                spot++;
-            } else if (letter >= 'v') {
-                kind = Code.COLUMN;
-                number = letter - 'v';
-            } else {
-                kind = letter <= 'd' ? Code.TABLE : Code.NO_TOKEN;
-                number = letter - 'a';
+                return tell(Code.REF, (behind - '0') * MOST_COLUMNS + (letter - 'v'), end + 1);
             }
+            if (letter >= 'v') {
+                return tell(Code.COLUMN, letter - 'v', end);
+            }
+            return tell(letter <= 'd' ? Code.TABLE : Code.NO_TOKEN, letter - 'a', end);
         }
 
-        private int wordBetween(int from, int to) {
+        private static int wordBetween(StringBuilder signs, int from, int to) {
             for (int word = 0; word < Code.WORDS && to - from <= Code.WIDTH; word++) {
                 boolean isLike = true;
                 for (int i = 0; i < Code.WIDTH; i++) {
-                    char sign = from + i < to ? signAt(from + i) : ' ';
+                    char sign = from + i < to ? signAt(signs, from + i) : ' ';
                     if (Code.SPELLED.charAt(word * Code.WIDTH + i) != sign) {
                         isLike = false;
                     }
@@ -1878,110 +1885,104 @@ public final class Columnworks {
             return Code.NO_TOKEN;
         }
 
-        private void takeWord() {
-            spot++;
-            number = 0;
+        private int takeWord(StringBuilder signs, int begin) {
+            long number = 0;
             int letters = 0;
-            for (int i = 0; i < MOST_SIGNS && isLetter(signAt(spot)); i++) {
+            for (int i = 0; i < MOST_SIGNS && isLetter(signAt(signs, begin + 1 + letters)); i++) {
                 if (letters < MOST_LETTERS) {
-                    number = number * 27 + (signAt(spot) - 'a' + 1);
+                    number = number * 27 + (signAt(signs, begin + 1 + letters) - 'a' + 1);
                 }
                 letters++;
-                spot++;
             }
-            boolean isWord = letters >= 1 && letters <= MOST_LETTERS && signAt(spot) == '\'';
+            boolean isWord = letters >= 1 && letters <= MOST_LETTERS && signAt(signs, begin + 1 + letters) == '\'';
             for (int i = letters; i < MOST_LETTERS; i++) {
                 number *= 27;
             }
-            spot++;
-            kind = isWord ? Code.WORD : Code.NO_TOKEN;
+            return tell(isWord ? Code.WORD : Code.NO_TOKEN, number, begin + letters + 2);
         }
 
-        private void takeSign(char sign) {
-            spot++;
-            char behind = signAt(spot);
+        private int takeSign(StringBuilder signs, int begin) {
+            char sign = signAt(signs, begin);
+            char behind = signAt(signs, begin + 1);
             if (sign == '<' && (behind == '=' || behind == '>')) {
-                spot++;
-                kind = behind == '=' ? Code.LESS_OR_LIKE : Code.UNLIKE;
-                return;
+                return tell(behind == '=' ? Code.LESS_OR_LIKE : Code.UNLIKE, 0, begin + 2);
             }
             boolean isSign = sign == ';' || sign == ',' || sign == '(' || sign == ')' || sign == '[' || sign == ']'
                     || sign == '+' || sign == '-' || sign == '*' || sign == '/' || sign == '<' || sign == '=';
-            kind = isSign ? sign : Code.NO_TOKEN;
+            return tell(isSign ? sign : Code.NO_TOKEN, 0, begin + 1);
         }
 
         // -- faults
 
         private void refuse() {
             if (stuck == NONE) {
-                stuck = place;
+                stuck = tokenPlaces[spot];
                 kind = Code.HALT;
             }
         }
 
+        /** Goes behind the token at hand, if it is the one that is due; otherwise it can't stand there. */
         private void expect(int due) {
-            if (kind == due) {
-                advance();
-            } else {
-                refuse();
+            if (stuck != NONE) {
+                return;
             }
-        }
-
-        private void wonder(int at) {
-            if (strange == NONE || at < strange) {
-                strange = at;
+            if (kind != due) {
+                stuck = tokenPlaces[spot];
+                kind = Code.HALT;
+                return;
             }
-        }
-
-        private void wonderIfGrouped(int at) {
-            if (strangeIfGrouped == NONE || at < strangeIfGrouped) {
-                strangeIfGrouped = at;
+            if (spot + 1 < tokens) {
+                spot++;
             }
+            kind = tokenKinds[spot];
         }
 
         /** Goes behind a token that opens something, if not too much is open. */
         private void openBy(int due) {
-            if (kind != due || opened >= MOST_OPEN) {
+            if (opened >= MOST_OPEN) {
                 refuse();
-                return;
             }
             opened++;
-            advance();
+            expect(due);
         }
 
-        private void closeBy(int due) {
-            expect(due);
-            opened--;
+        private void wonder(int place) {
+            if (strange == NONE || place < strange) {
+                strange = place;
+            }
+        }
+
+        private void wonderIfGrouped() {
+            if (strangeIfGrouped == NONE || tokenPlaces[spot] < strangeIfGrouped) {
+                strangeIfGrouped = tokenPlaces[spot];
+            }
         }
 
         // -- changes
 
         private int readTable() {
+            long number = tokenNumbers[spot];
             int found = kind == Code.TABLE && number >= 0 && number < MOST_TABLES ? (int) number : 0;
             if (kind == Code.TABLE && tables[found] == null) {
-                wonder(place);
+                wonder(tokenPlaces[spot]);
             }
             expect(Code.TABLE);
             return found;
         }
 
-        private void readChangedTable() {
-            advance();
-            sentence.sourceTables[0] = readTable();
-            sentence.sources = 1;
-            seen[0] = sentence.sourceTables[0];
+        /** Reads the table of a change; returns how many columns it has, more than any if there is none. */
+        private int readChangedTable() {
+            expect(kind);
+            seen[0] = readTable();
             sources = 1;
-        }
-
-        /** How many columns the table of a source has; enough, if there is no such table. */
-        private int columnsOf(int source) {
-            Table found = source >= 0 && source < MOST_SOURCES ? tables[seen[source]] : null;
+            sentence.sourceTables[0] = seen[0];
+            sentence.sources = 1;
+            Table found = tables[seen[0]];
             return found == null ? MOST_SIGNS : found.columns;
         }
 
         private void readPut() {
-            readChangedTable();
-            int columns = columnsOf(0);
+            int columns = readChangedTable();
             int told = 0;
             for (int i = 0; i < MOST_SIGNS; i++) {
                 readPutValue(i, columns);
@@ -1989,19 +1990,19 @@ public final class Columnworks {
                 if (kind != ',') {
                     break;
                 }
-                advance();
+                expect(',');
             }
             if (kind == ';' && told < columns) {
-                wonder(place);
+                wonder(tokenPlaces[spot]);
             }
             expect(';');
         }
 
         private void readPutValue(int i, int columns) {
-            int begin = place;
+            int begin = tokenPlaces[spot];
             boolean isNegative = kind == '-';
             if (isNegative) {
-                advance();
+                expect('-');
             }
             boolean isValue = kind == Code.NUMBER || !isNegative && (kind == Code.WORD || kind == Code.LACK);
             if (!isValue) {
@@ -2011,18 +2012,19 @@ public final class Columnworks {
             if (i >= columns) {
                 wonder(begin);
             } else if (i < MOST_COLUMNS) {
+                long number = tokenNumbers[spot];
                 sentence.putLacks[i] = kind == Code.LACK;
                 sentence.putValues[i] = kind == Code.LACK ? 0 : isNegative ? -number : number;
             }
-            advance();
+            expect(kind);
         }
 
         private void readSet() {
-            readChangedTable();
+            int columns = readChangedTable();
             if (kind == Code.COLUMN) {
-                sentence.column = (int) number;
-                if (number >= columnsOf(0)) {
-                    wonder(place);
+                sentence.column = (int) tokenNumbers[spot];
+                if (sentence.column >= columns) {
+                    wonder(tokenPlaces[spot]);
                 }
             }
             expect(Code.COLUMN);
@@ -2040,7 +2042,7 @@ public final class Columnworks {
 
         private void readChangeTest() {
             if (kind == Code.WHERE) {
-                advance();
+                expect(Code.WHERE);
                 readTest(false);
                 sentence.testRoot = sentence.code.last();
             }
@@ -2050,14 +2052,14 @@ public final class Columnworks {
         // -- questions
 
         private void readQuestion() {
-            advance();
+            expect(Code.FROM);
             readSources();
             sentence.sources = sources;
             for (int i = 0; i < sources && i < MOST_SOURCES; i++) {
                 sentence.sourceTables[i] = seen[i];
             }
             if (kind == Code.WHERE) {
-                advance();
+                expect(Code.WHERE);
                 isBehindWhere = true;
                 readTest(true);
                 sentence.testRoot = sentence.code.last();
@@ -2069,8 +2071,8 @@ public final class Columnworks {
             readItems();
             readKeys();
             if (kind == Code.FIRST) {
-                advance();
-                sentence.first = kind == Code.NUMBER ? (int) Math.min(number, MILLION) : 0;
+                expect(Code.FIRST);
+                sentence.first = (int) Math.min(tokenNumbers[spot], MILLION);
                 expect(Code.NUMBER);
             }
             expect(';');
@@ -2103,12 +2105,12 @@ public final class Columnworks {
                     refuse();
                     return;
                 }
-                advance();
+                expect(',');
             }
         }
 
         private int readRef() {
-            int found = kind == Code.REF && number >= 0 ? (int) number : 0;
+            int found = kind == Code.REF ? (int) tokenNumbers[spot] : 0;
             if (kind == Code.REF) {
                 checkRef(found);
             }
@@ -2116,10 +2118,15 @@ public final class Columnworks {
             return found;
         }
 
+        /** Looks whether the source of the ref at hand is there, and its table has the column. */
         private void checkRef(int ref) {
             int source = ref / MOST_COLUMNS;
-            if (source >= sources || ref % MOST_COLUMNS >= columnsOf(source)) {
-                wonder(place);
+            int place = tokenPlaces[spot];
+            boolean isThere = source >= 0 && source < sources && source < MOST_SOURCES;
+            Table found = isThere ? tables[seen[source]] : null;
+            boolean isStrange = !isThere || found != null && ref % MOST_COLUMNS >= found.columns;
+            if (isStrange && (strange == NONE || place < strange)) {
+                strange = place;
             }
         }
 
@@ -2127,17 +2134,17 @@ public final class Columnworks {
             if (kind != Code.BY) {
                 return;
             }
-            advance();
+            expect(Code.BY);
             for (int i = 0; i < MOST_SOURCES; i++) {
                 sentence.byRefs[i] = readRef();
                 sentence.bys = i + 1;
                 if (kind != ',' || i == MOST_SOURCES - 1) {
                     break;
                 }
-                advance();
+                expect(',');
             }
             if (kind == Code.WITH) {
-                advance();
+                expect(Code.WITH);
                 readTest(false);
                 sentence.withRoot = sentence.code.last();
             }
@@ -2145,31 +2152,32 @@ public final class Columnworks {
 
         private void readItems() {
             for (int i = 0; i < MOST_ITEMS; i++) {
-                readItem();
+                sentence.tellItem(Sentence.KIND, kind);
+                if (kind == Code.RANK || kind == Code.RUN) {
+                    readOver();
+                } else {
+                    readSum();
+                    sentence.tellItem(Sentence.ROOT, sentence.code.last());
+                }
                 sentence.items = i + 1;
                 if (kind != ',' || i == MOST_ITEMS - 1) {
                     return;
                 }
-                advance();
+                expect(',');
             }
         }
 
-        private void readItem() {
-            sentence.tellItem(Sentence.KIND, kind);
-            if (kind != Code.RANK && kind != Code.RUN) {
-                readSum();
-                sentence.tellItem(Sentence.ROOT, sentence.code.last());
-                return;
-            }
-            wonderIfGrouped(place);
+        private void readOver() {
+            wonderIfGrouped();
             boolean isRun = kind == Code.RUN;
-            advance();
+            expect(kind);
             if (isRun) {
-                isInOver = true;
                 openBy('(');
+                isShielded = true;
                 readSum();
-                closeBy(')');
-                isInOver = false;
+                isShielded = false;
+                expect(')');
+                opened--;
                 sentence.tellItem(Sentence.ROOT, sentence.code.last());
             }
             expect(Code.WORD_OVER);
@@ -2185,23 +2193,24 @@ public final class Columnworks {
                 if (kind != ',' || i == MOST_SOURCES - 1) {
                     break;
                 }
-                advance();
+                expect(',');
             }
             sentence.tellItem(Sentence.SPAN, many);
             expect(Code.ALONG);
             sentence.tellItem(Sentence.ALONG, readRef());
-            closeBy(')');
+            expect(')');
+            opened--;
         }
 
         private void readKeys() {
             if (kind != Code.ORDER) {
                 return;
             }
-            advance();
+            expect(Code.ORDER);
             for (int i = 0; i < MOST_SOURCES; i++) {
                 boolean isDown = kind == Code.DOWN;
                 if (isDown) {
-                    advance();
+                    expect(Code.DOWN);
                 }
                 readSum();
                 sentence.keyParts[i * 2] = sentence.code.last();
@@ -2210,17 +2219,18 @@ public final class Columnworks {
                 if (kind != ',' || i == MOST_SOURCES - 1) {
                     return;
                 }
-                advance();
+                expect(',');
             }
         }
 
-        // -- tests and sums: each way back into them goes through openBy, so they nest 11 deep at most
+        // -- tests: each way back into them goes through openBy, and none is gone behind a fault, so they nest
+        // 11 deep at most
 
         private void readTest(boolean isTop) {
             readAll(isTop);
             boolean hasOr = false;
             for (int i = 0; i < MOST_SIGNS && kind == Code.OR; i++) {
-                advance();
+                expect(Code.OR);
                 readAll(isTop);
                 sentence.code.addBinary(Code.OR);
                 hasOr = true;
@@ -2237,7 +2247,7 @@ public final class Columnworks {
                 sentence.addConjunct(sentence.code.last());
             }
             for (int i = 0; i < MOST_SIGNS && kind == Code.AND; i++) {
-                advance();
+                expect(Code.AND);
                 readOne();
                 if (isTop) {
                     sentence.addConjunct(sentence.code.last());
@@ -2250,87 +2260,65 @@ public final class Columnworks {
             boolean mayAsk = isBehindWhere && !isInner;
             if (kind == Code.NOT) {
                 openBy(Code.NOT);
-                readOneInside();
+                if (stuck == NONE) {
+                    readOne();
+                }
                 opened--;
                 sentence.code.addUnary(Code.NOT);
             } else if (kind == '[') {
                 openBy('[');
-                readTestInside();
-                closeBy(']');
+                if (stuck == NONE) {
+                    readTest(false);
+                }
+                expect(']');
+                opened--;
                 sentence.code.wrapLast();
             } else if (kind == Code.LACKS) {
-                advance();
+                expect(Code.LACKS);
                 readUnit();
                 sentence.code.addUnary(Code.LACKS);
             } else if (kind == Code.SOME && mayAsk) {
-                advance();
                 readInner(Code.SOME);
             } else {
                 readSum();
-                if (kind == Code.IN && mayAsk) {
-                    advance();
+                int sign = kind;
+                if (sign == Code.IN && mayAsk) {
                     readInner(Code.IN);
+                } else if (sign == '<' || sign == '=' || sign == Code.LESS_OR_LIKE || sign == Code.UNLIKE) {
+                    expect(sign);
+                    readSum();
+                    sentence.code.addBinary(sign);
                 } else {
-                    readComparison();
+                    refuse();
                 }
             }
         }
 
-        private void readOneInside() {
-            if (stuck == NONE) {
-                readOne();
-            }
-        }
-
-        private void readTestInside() {
-            if (stuck == NONE) {
-                readTest(false);
-            }
-        }
-
-        private void readSumInside() {
-            if (stuck == NONE) {
-                readSum();
-            }
-        }
-
-        private void readComparison() {
-            int sign = kind;
-            if (sign != '<' && sign != '=' && sign != Code.LESS_OR_LIKE && sign != Code.UNLIKE) {
-                refuse();
-                return;
-            }
-            advance();
-            readSum();
-            sentence.code.addBinary(sign);
-        }
-
         private void readInner(int word) {
+            expect(word);
             openBy('(');
             int from = sentence.code.size;
             int own = sources;
             sentence.code.addLeaf(Code.FROM, 0);
             expect(Code.FROM);
-            if (stuck != NONE) {
-                return;
-            }
             isInner = true;
             readSources();
             tellInnerTables(own);
             int test = NONE;
             if (kind == Code.WHERE) {
-                advance();
-                readTestInside();
+                expect(Code.WHERE);
+                readTest(false);
                 test = sentence.code.last();
                 sentence.code.addLeaf(Code.WHERE, 0);
             }
             int take = NONE;
             if (word == Code.IN) {
                 expect(Code.TAKE);
-                readSumInside();
+                readSum();
                 take = sentence.code.last();
             }
-            closeBy(')');
+            expect(')');
+            opened--;
             isInner = false;
             sources = own;
             sentence.code.addInner(word, from, test, take);
@@ -2344,11 +2332,13 @@ public final class Columnworks {
             }
         }
 
+        // -- sums: they nest as tests do
+
         private void readSum() {
             readTerm();
             for (int i = 0; i < MOST_SIGNS && (kind == '+' || kind == '-'); i++) {
                 int sign = kind;
-                advance();
+                expect(sign);
                 readTerm();
                 sentence.code.addBinary(sign);
             }
@@ -2358,7 +2348,7 @@ public final class Columnworks {
             readUnit();
             for (int i = 0; i < MOST_SIGNS && (kind == '*' || kind == '/'); i++) {
                 int sign = kind;
-                advance();
+                expect(sign);
                 readUnit();
                 sentence.code.addBinary(sign);
             }
@@ -2366,24 +2356,35 @@ public final class Columnworks {
 
         private void readUnit() {
             if (kind == Code.NUMBER || kind == Code.WORD) {
-                sentence.code.addNumber(number);
-                advance();
+                sentence.code.addNumber(tokenNumbers[spot]);
+                expect(kind);
             } else if (kind == (isChange ? Code.COLUMN : Code.REF)) {
-                readUnitRef();
+                int ref = (int) tokenNumbers[spot];
+                checkRef(ref);
+                if (!isChange && !isBehindWhere && !isShielded && !sentence.isTold(ref)) {
+                    wonderIfGrouped();
+                }
+                sentence.code.addLeaf(Code.REF, ref);
+                expect(kind);
             } else if (kind == '-') {
                 openBy('-');
-                readUnitInside();
+                if (stuck == NONE) {
+                    readUnit();
+                }
                 opened--;
                 sentence.code.addUnary(Code.MINUS);
             } else if (kind == '(') {
                 openBy('(');
-                readSumInside();
-                closeBy(')');
+                if (stuck == NONE) {
+                    readSum();
+                }
+                expect(')');
+                opened--;
                 sentence.code.wrapLast();
             } else if (kind == Code.COUNT) {
                 noteAggregate();
                 sentence.code.addLeaf(Code.COUNT, 0);
-                advance();
+                expect(Code.COUNT);
             } else if (kind == Code.TOTAL || kind == Code.LEAST || kind == Code.MOST) {
                 readAggregate();
             } else {
@@ -2391,25 +2392,9 @@ public final class Columnworks {
             }
         }
 
-        private void readUnitInside() {
-            if (stuck == NONE) {
-                readUnit();
-            }
-        }
-
-        private void readUnitRef() {
-            int ref = (int) number;
-            checkRef(ref);
-            if (!isChange && !isBehindWhere && !isInAggregate && !sentence.isTold(ref)) {
-                wonderIfGrouped(place);
-            }
-            sentence.code.addLeaf(Code.REF, ref);
-            advance();
-        }
-
         private void noteAggregate() {
-            if (isChange || isBehindWhere || isInAggregate || isInOver) {
-                wonder(place);
+            if (isChange || isBehindWhere || isShielded) {
+                wonder(tokenPlaces[spot]);
             }
             if (isBehindTake) {
                 hasAggregate = true;
@@ -2419,15 +2404,18 @@ public final class Columnworks {
         private void readAggregate() {
             noteAggregate();
             int word = kind;
-            boolean isWithin = isInAggregate;
-            advance();
+            boolean isWithin = isShielded;
+            expect(word);
             openBy('(');
-            isInAggregate = true;
+            isShielded = true;
             int begin = sentence.code.size;
             sentence.code.addLeaf(Code.BEGIN, 0);
-            readSumInside();
-            closeBy(')');
-            isInAggregate = isWithin;
+            if (stuck == NONE) {
+                readSum();
+            }
+            expect(')');
+            opened--;
+            isShielded = isWithin;
             sentence.code.addAggregate(word, begin);
         }
     }
@@ -2470,12 +2458,16 @@ public final class Columnworks {
             }
         }
 
-        /** Works out a sum or test; what comes out is told by result() and isResultLack(). */
-        void reckon(Code code, int root) {
+        /**
+         * Works out a sum or test; what comes out of a sum is told by result() and isResultLack(). Returns whether
+         * a test is so.
+         */
+        boolean reckon(Code code, int root) {
             top = 0;
             if (root >= 0 && root < code.size) {
                 work(code, code.start[root], root, 0);
             }
+            return top > 0 && worked[0] != 0;
         }
 
         long result() {
@@ -2484,11 +2476,6 @@ public final class Columnworks {
 
         boolean isResultLack() {
             return top < 1 || workedLacks[0];
-        }
-
-        boolean isSo(Code code, int root) {
-            reckon(code, root);
-            return top > 0 && worked[0] != 0;
         }
 
         /** Works through parts; leaves one result more on the stack. */
@@ -2507,8 +2494,10 @@ public final class Columnworks {
                     push(members, false);
                 } else if (op == Code.MINUS || op == Code.NOT || op == Code.LACKS) {
                     workUnary(op);
+                } else if (op == '+' || op == '-' || op == '*' || op == '/') {
+                    workSum(op);
                 } else {
-                    workBinary(op);
+                    workTest(op);
                 }
             }
         }
@@ -2516,60 +2505,73 @@ public final class Columnworks {
         private void pushRef(int ref) {
             int source = ref / MOST_COLUMNS;
             Table table = source >= 0 && source < MOST_SOURCES ? sources[source] : null;
-            if (table == null) {
-                push(0, true);
-            } else {
-                push(table.valueAt(at[source], ref % MOST_COLUMNS), table.isLack(at[source], ref % MOST_COLUMNS));
+            if (top >= MOST_WORKED) {
+                return;
             }
+            int spot = table == null ? NONE : at[source] * table.columns + ref % MOST_COLUMNS;
+            boolean isThere = table != null && spot >= 0 && spot < table.values.length;
+            workedLacks[top] = !isThere || table.lacking[spot];
+            worked[top] = isThere ? table.values[spot] : 0;
+            top++;
         }
 
         private void workUnary(int op) {
             if (top < 1) {
                 return;
             }
-            top--;
-            long one = worked[top];
-            boolean isLack = workedLacks[top];
+            long one = worked[top - 1];
             if (op == Code.MINUS) {
-                push(-one, isLack);
+                worked[top - 1] = -one;
             } else if (op == Code.NOT) {
-                push(one == 0 ? 1 : 0, false);
+                worked[top - 1] = one == 0 ? 1 : 0;
             } else {
-                push(isLack ? 1 : 0, false);
+                worked[top - 1] = workedLacks[top - 1] ? 1 : 0;
+                workedLacks[top - 1] = false;
             }
         }
 
-        private void workBinary(int op) {
+        private void workSum(int op) {
             if (top < 2) {
                 return;
             }
-            long left = worked[top - 2];
-            long right = worked[top - 1];
-            boolean isLack = workedLacks[top - 2] || workedLacks[top - 1];
-            top -= 2;
+            top--;
+            long left = worked[top - 1];
+            long right = worked[top];
+            boolean isLack = workedLacks[top - 1] || workedLacks[top] || op == '/' && right == 0;
+            long made = 0;
             if (op == '+') {
-                push(left + right, isLack);
+                made = left + right;
             } else if (op == '-') {
-                push(left - right, isLack);
+                made = left - right;
             } else if (op == '*') {
-                push(left * right, isLack);
-            } else if (op == '/') {
-                push(right == 0 ? 0 : left / right, isLack || right == 0);
-            } else {
-                push(!isLack && isTrue(op, left, right) ? 1 : 0, false);
+                made = left * right;
+            } else if (right != 0) {
+                made = left / right;
             }
+            worked[top - 1] = isLack ? 0 : made;
+            workedLacks[top - 1] = isLack;
         }
 
-        private static boolean isTrue(int op, long left, long right) {
-            switch (op) {
-                case '<': return left < right;
-                case '=': return left == right;
-                case Code.LESS_OR_LIKE: return left <= right;
-                case Code.UNLIKE: return left != right;
-                case Code.AND: return left != 0 && right != 0;
-                case Code.OR: return left != 0 || right != 0;
-                default: return false;
+        /** A comparison, an and or an or; a comparison with a LACKING side is not so. */
+        private void workTest(int op) {
+            if (top < 2) {
+                return;
             }
+            top--;
+            long left = worked[top - 1];
+            long right = worked[top];
+            boolean isLack = workedLacks[top - 1] || workedLacks[top];
+            boolean isSo;
+            switch (op) {
+                case '<': isSo = left < right; break;
+                case '=': isSo = left == right; break;
+                case Code.LESS_OR_LIKE: isSo = left <= right; break;
+                case Code.UNLIKE: isSo = left != right; break;
+                case Code.AND: isSo = left != 0 && right != 0; break;
+                default: isSo = left != 0 || right != 0; break;
+            }
+            worked[top - 1] = isSo && !isLack ? 1 : 0;
+            workedLacks[top - 1] = false;
         }
 
         /** Works out an inner question; returns the place of its SOME or IN. */
@@ -2722,7 +2724,7 @@ public final class Columnworks {
         /** Whether all conjuncts are so that have refs of sources of the set alone. */
         boolean stays(Sentence asked, int set) {
             for (int i = 0; i < asked.conjuncts; i++) {
-                if ((asked.conjunctSets[i] & ~set) == 0 && !isSo(asked.code, asked.conjunctRoots[i])) {
+                if ((asked.conjunctSets[i] & ~set) == 0 && !reckon(asked.code, asked.conjunctRoots[i])) {
                     return false;
                 }
             }
@@ -2777,15 +2779,19 @@ public final class Columnworks {
             pushRef(ref);
         }
 
-        /** Whether two rows have like values of a ref. */
-        boolean isLike(int ref, int row, int other) {
-            standAt(row);
-            reckonRef(ref);
-            long one = result();
-            boolean isLack = isResultLack();
-            standAt(other);
-            reckonRef(ref);
-            return one == result() && isLack == isResultLack();
+        /** Whether two rows have like values of so many refs of a list. */
+        boolean isLike(int[] refs, int from, int many, int row, int other) {
+            for (int i = from; i < from + many && i >= 0 && i < refs.length; i++) {
+                top = 0;
+                standAt(row);
+                pushRef(refs[i]);
+                standAt(other);
+                pushRef(refs[i]);
+                if (worked[0] != worked[1] || workedLacks[0] != workedLacks[1]) {
+                    return false;
+                }
+            }
+            return true;
         }
 
         // -- changes
@@ -2797,7 +2803,7 @@ public final class Columnworks {
             }
             sources[0] = changed;
             at[0] = place;
-            return told.testRoot == NONE || isSo(told.code, told.testRoot);
+            return told.testRoot == NONE || reckon(told.code, told.testRoot);
         }
 
         int countHits(Sentence told, Table changed) {
@@ -2881,9 +2887,9 @@ public final class Columnworks {
         }
 
         private void spellConstant(Code code, int root, StringBuilder out) {
-            reckon(code, root);
+            boolean isSo = reckon(code, root);
             if (isTest(code.op[root])) {
-                out.append(result() != 0 ? "so" : "no");
+                out.append(isSo ? "so" : "no");
             } else if (isResultLack()) {
                 out.append("lack");
             } else {
@@ -2961,7 +2967,6 @@ public final class Columnworks {
 
     /** The answers of section 4; the last one is at hand until a table changes. */
     private static final class Answers {
-        private final Table[] tables;
         private final Machine machine;
         private Sentence solved = null;
         private int solvedMoment = NONE;
@@ -2984,8 +2989,7 @@ public final class Columnworks {
         private final long[] parts = new long[MOST_ROWS];
         private final boolean[] partLacks = new boolean[MOST_ROWS];
 
-        Answers(Table[] tables, Machine machine) {
-            this.tables = tables;
+        Answers(Machine machine) {
             this.machine = machine;
         }
 
@@ -3016,12 +3020,13 @@ public final class Columnworks {
         }
 
         private int livingOf(int table, int moment) {
-            boolean isThere = table >= 0 && table < MOST_TABLES && tables[table] != null;
-            return isThere ? tables[table].living(moment) : 0;
+            Table found = table >= 0 && table < MOST_TABLES ? machine.tables[table] : null;
+            return found == null ? 0 : found.living(moment);
         }
 
         private boolean isLater(int table, int moment) {
-            return table >= 0 && table < MOST_TABLES && tables[table] != null && tables[table].since > moment;
+            Table found = table >= 0 && table < MOST_TABLES ? machine.tables[table] : null;
+            return found != null && found.since > moment;
         }
 
         private boolean isSweptSince(Sentence asked, int moment) {
@@ -3122,7 +3127,7 @@ public final class Columnworks {
             int groups = asked.bys == 0 ? makeOneGroup() : makeGroups(asked);
             for (int group = 0; group < groups; group++) {
                 machine.standAtGroup(heads[group], sizes[group]);
-                if (asked.withRoot == NONE || machine.isSo(asked.code, asked.withRoot)) {
+                if (asked.withRoot == NONE || machine.reckon(asked.code, asked.withRoot)) {
                     tellRow(asked, found);
                     found++;
                 }
@@ -3139,7 +3144,7 @@ public final class Columnworks {
             int groups = 0;
             for (int row = 0; row < joined; row++) {
                 int group = 0;
-                for (int i = 0; i < groups && !isLikeBy(asked, row, heads[i]); i++) {
+                for (int i = 0; i < groups && !machine.isLike(asked.byRefs, 0, asked.bys, row, heads[i]); i++) {
                     group++;
                 }
                 if (group == groups) {
@@ -3155,22 +3160,15 @@ public final class Columnworks {
             return groups;
         }
 
-        private boolean isLikeBy(Sentence asked, int row, int other) {
-            for (int i = 0; i < asked.bys; i++) {
-                if (!machine.isLike(asked.byRefs[i], row, other)) {
-                    return false;
-                }
-            }
-            return true;
-        }
-
         // -- rank and run
 
         private void tellWindow(Sentence asked, int item) {
             boolean isRun = asked.itemPart(item, Sentence.KIND) == Code.RUN;
+            int from = item * Sentence.ITEM_PARTS + Sentence.SPAN_REF;
+            int span = asked.itemPart(item, Sentence.SPAN);
             for (int row = 0; row < joined; row++) {
                 int like = 0;
-                for (int i = 0; i < row && !(classes[i] == i && isLikeSpan(asked, item, row, i)); i++) {
+                for (int i = 0; i < row && !(classes[i] == i && machine.isLike(asked.itemParts, from, span, row, i)); i++) {
                     like++;
                 }
                 classes[row] = like;
@@ -3191,15 +3189,6 @@ public final class Columnworks {
                     tellRank(row, item);
                 }
             }
-        }
-
-        private boolean isLikeSpan(Sentence asked, int item, int row, int other) {
-            for (int i = 0; i < asked.itemPart(item, Sentence.SPAN); i++) {
-                if (!machine.isLike(asked.itemPart(item, Sentence.SPAN_REF + i), row, other)) {
-                    return false;
-                }
-            }
-            return true;
         }
 
         private void tellRank(int row, int item) {
@@ -3279,6 +3268,9 @@ public final class Columnworks {
         final int[] reads = new int[MOST_SOURCES];
         final int[] shutZones = new int[MOST_SOURCES];
         private final boolean[] isShut = new boolean[MOST_SOURCES * MOST_ZONES];
+        /** The refs on the left and on the right side of each equality. */
+        private final int[] equalityRefs = new int[2 * Sentence.MOST_CONJUNCTS];
+        private int equalities = 0;
         /** EST of each set of sources. */
         final long[] estimates = new long[8];
         private final int[] nodeKinds = new int[MOST_NODES];
@@ -3300,11 +3292,25 @@ public final class Columnworks {
         void prepare(Sentence question, int asOf) {
             asked = question;
             moment = asOf;
+            findEqualities();
             for (int source = 0; source < asked.sources; source++) {
                 shutZonesOf(source);
             }
             for (int set = 1; set < 1 << asked.sources && set < 8; set++) {
                 estimates[set] = estimateOf(set);
+            }
+        }
+
+        private void findEqualities() {
+            equalities = 0;
+            for (int i = 0; i < asked.conjuncts; i++) {
+                int left = asked.equalityRef(i, false);
+                int right = asked.equalityRef(i, true);
+                if (left != NONE && right != NONE && equalities < Sentence.MOST_CONJUNCTS) {
+                    equalityRefs[2 * equalities] = left;
+                    equalityRefs[2 * equalities + 1] = right;
+                    equalities++;
+                }
             }
         }
 
@@ -3424,12 +3430,9 @@ public final class Columnworks {
                     rows *= reads[source];
                 }
             }
-            for (int i = 0; i < asked.conjuncts; i++) {
-                int left = asked.equalityRef(i, false);
-                int right = asked.equalityRef(i, true);
-                if (left == NONE || right == NONE) {
-                    continue;
-                }
+            for (int i = 0; i < equalities; i++) {
+                int left = equalityRefs[2 * i];
+                int right = equalityRefs[2 * i + 1];
                 int both = 1 << left / MOST_COLUMNS | 1 << right / MOST_COLUMNS;
                 if ((both & ~set) == 0) {
                     rows = upwards(rows, Math.max(1, Math.max(tallyOf(left), tallyOf(right))));
@@ -3462,7 +3465,15 @@ public final class Columnworks {
                 return false;
             }
             int whole = readNode(plan, 0);
-            return whole != NONE && spot == plan.length() && nodeSets[whole] == (1 << asked.sources) - 1;
+            if (whole == NONE || spot != plan.length() || nodeSets[whole] != (1 << asked.sources) - 1) {
+                return false;
+            }
+            for (int i = 0; i < nodes; i++) {
+                if (!isNodeLawful(i)) {
+                    return false;
+                }
+            }
+            return true;
         }
 
         private static char signAt(StringBuilder plan, int at) {
@@ -3485,7 +3496,7 @@ public final class Columnworks {
             char op = signAt(plan, spot);
             spot++;
             int right = readNode(plan, depth + 1);
-            if (right == NONE || signAt(plan, spot) != ')' || !isJoinLawful(op, left, right)) {
+            if (right == NONE || signAt(plan, spot) != ')' || (nodeSets[left] & nodeSets[right]) != 0) {
                 return NONE;
             }
             spot++;
@@ -3504,51 +3515,35 @@ public final class Columnworks {
             return nodes - 1;
         }
 
-        private boolean isJoinLawful(char op, int left, int right) {
-            if ((nodeSets[left] & nodeSets[right]) != 0) {
-                return false;
-            }
-            if (op == 'x') {
+        private boolean isNodeLawful(int node) {
+            int kind = nodeKinds[node];
+            if (kind == LEAF || kind == 'x') {
                 return true;
             }
-            int equality = firstEquality(nodeSets[left], nodeSets[right]);
-            if (equality == NONE) {
-                return false;
+            int ref = joinRef(node, true);
+            if (kind == 'i') {
+                return ref != NONE && nodeKinds[nodeRights[node]] == LEAF && indexOf(ref) != null;
             }
-            if (op == 'i') {
-                return nodeKinds[right] == LEAF && indexOfJoin(nodeSets[left], nodeSets[right]) != null;
-            }
-            return op == 'h' || op == 'm';
+            return ref != NONE && (kind == 'h' || kind == 'm');
         }
 
-        /** The first conjunct that is an equality of a source of the one set and one of the other. */
-        private int firstEquality(int leftSet, int rightSet) {
-            for (int i = 0; i < asked.conjuncts; i++) {
-                int one = asked.equalityRef(i, false);
-                int other = asked.equalityRef(i, true);
-                if (one == NONE || other == NONE) {
-                    continue;
-                }
+        /** The ref on the left or the right part's side of the first equality of both parts; NONE without one. */
+        private int joinRef(int node, boolean isRight) {
+            int leftSet = nodeSets[nodeLefts[node]];
+            int rightSet = nodeSets[nodeRights[node]];
+            for (int i = 0; i < equalities; i++) {
+                int one = equalityRefs[2 * i];
+                int other = equalityRefs[2 * i + 1];
                 int oneBit = 1 << one / MOST_COLUMNS;
                 int otherBit = 1 << other / MOST_COLUMNS;
-                if ((oneBit & leftSet) != 0 && (otherBit & rightSet) != 0
-                        || (oneBit & rightSet) != 0 && (otherBit & leftSet) != 0) {
-                    return i;
+                if ((oneBit & leftSet) != 0 && (otherBit & rightSet) != 0) {
+                    return isRight ? other : one;
+                }
+                if ((oneBit & rightSet) != 0 && (otherBit & leftSet) != 0) {
+                    return isRight ? one : other;
                 }
             }
             return NONE;
-        }
-
-        /** The ref of the first equality of two sets that is of a source of the side asked. */
-        private int equalitySide(int leftSet, int rightSet, boolean isRight) {
-            int equality = firstEquality(leftSet, rightSet);
-            int one = asked.equalityRef(equality, false);
-            int other = asked.equalityRef(equality, true);
-            if (one == NONE || other == NONE) {
-                return NONE;
-            }
-            int side = isRight ? rightSet : leftSet;
-            return (1 << one / MOST_COLUMNS & side) != 0 ? one : other;
         }
 
         Index findIndex(Table of, int column) {
@@ -3560,9 +3555,8 @@ public final class Columnworks {
             return null;
         }
 
-        private Index indexOfJoin(int leftSet, int rightSet) {
-            int ref = equalitySide(leftSet, rightSet, true);
-            Table table = ref == NONE ? null : tableOf(ref / MOST_COLUMNS);
+        private Index indexOf(int ref) {
+            Table table = ref < 0 ? null : tableOf(ref / MOST_COLUMNS);
             return table == null ? null : findIndex(table, ref % MOST_COLUMNS);
         }
 
@@ -3589,7 +3583,7 @@ public final class Columnworks {
         }
 
         private long entriesForEach(int node) {
-            int ref = equalitySide(nodeSets[nodeLefts[node]], nodeSets[nodeRights[node]], true);
+            int ref = joinRef(node, true);
             Table table = ref == NONE ? null : tableOf(ref / MOST_COLUMNS);
             return table == null ? 0 : upwards(table.count, Math.max(1, tallyOf(ref)));
         }
@@ -3741,15 +3735,15 @@ public final class Columnworks {
                 int steps = (1 + p) * run.batches(e) + (1 + q) * run.batches(f);
                 run.addTask(Run.JOIN_M, e + f, out, steps, p * e + q * f);
             } else {
-                int there = foundRows(leftSet, nodeSets[nodeRights[node]]);
+                int there = foundRows(node, leftSet);
                 run.addTask(Run.JOIN_I, e + there, out, run.batches(e) + run.batches(there), 0);
             }
         }
 
         /** FOUND: the entries that are looked up for the rows of the left part, dead versions' too. */
-        private int foundRows(int leftSet, int rightSet) {
-            Index index = indexOfJoin(leftSet, rightSet);
-            int ref = equalitySide(leftSet, rightSet, false);
+        private int foundRows(int node, int leftSet) {
+            Index index = indexOf(joinRef(node, true));
+            int ref = joinRef(node, false);
             if (index == null || ref == NONE) {
                 return 0;
             }

@@ -1220,6 +1220,10 @@ public final class Columnworks {
                     return false;
                 }
                 int there = gather(column, zone);
+                // what an earlier way gave must not count for this one
+                for (int i = 0; i < there && i < ZONE; i++) {
+                    again[i] = ~zoneValues[i];
+                }
                 readAgain(column, zone, way, there);
                 for (int i = 0; i < there && i < ZONE; i++) {
                     if (again[i] != zoneValues[i]) {

@@ -802,6 +802,14 @@ public final class PromiseTests {
         due("LACKING is in none", "", () -> solved("from a where v0/0 in(from b take v1) take v0;"));
         due("two inner sources", "1", () -> solved("from a where v0*4 in(from b,b take v1+v2) take v0;"));
         due("in where", "", () -> solved("from a where v0 in(from b where v0=1 take v1) take v0;"));
+        due("rows of two inner sources", "1 2", () -> {
+            change("put b 1;");
+            change("drop b where lacks v;");
+            change("put b 9;");
+            change("drop b where v=9;");
+            return solved("from a where v0+1 in(from b,b take v1*v2) take v0;") + " " + solved("from a where v0+2 in(from b,b take v1*v2) take v0;");
+        });
+        due("dead ones are none", "", () -> solved("from a where some(from b,b where v1=9 or v2=9 or lacks v2) take v0;"));
         due("rows", "2 0 0", () -> x.rows(0, 4) + " " + x.rows(0, 2) + " " + x.rows(0, 0));
     }
 

@@ -24,8 +24,8 @@ public final class Columnworks {
     private static final int MOST_BATCH = 64;
     private static final int MILLION = 1000000;
 
-    private final StringBuilder text = new StringBuilder(MOST_SIGNS);
-    private final StringBuilder shown = new StringBuilder(MOST_SIGNS);
+    private final StringBuilder text = new StringBuilder();
+    private final StringBuilder shown = new StringBuilder();
     private final Table[] tables = new Table[MOST_TABLES];
     private int tableCount = 0;
     private int moment = 0;
@@ -3283,8 +3283,8 @@ public final class Columnworks {
         private final int[] nodeSets = new int[MOST_NODES];
         private int nodes = 0;
         private int spot = 0;
-        private final StringBuilder tried = new StringBuilder(16);
-        final StringBuilder bestPlan = new StringBuilder(16);
+        private final StringBuilder tried = new StringBuilder();
+        final StringBuilder bestPlan = new StringBuilder();
 
         Planner(Table[] tables, Index[] indexes, Machine machine) {
             this.tables = tables;

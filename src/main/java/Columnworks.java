@@ -908,21 +908,10 @@ public final class Columnworks {
         return true;
     }
 
-    /** A kept answer is worked out as it is asked for; it is well if it can be, and is the same each time. */
+    /** A kept answer is worked out anew, by section 4, as it is asked for; so it is well if it can be worked out. */
     private boolean isKeptWell() {
         for (int i = 0; i < keepCount; i++) {
-            Kept kept = keeps[i];
-            if (kept.isLost) {
-                continue;
-            }
-            if (!answers.isAnswerable(kept.question, moment)) {
-                return false;
-            }
-            answers.solve(kept.question, moment);
-            long before = answers.sumOfAll();
-            answers.forget();
-            answers.solve(kept.question, moment);
-            if (answers.sumOfAll() != before) {
+            if (!keeps[i].isLost && !answers.isAnswerable(keeps[i].question, moment)) {
                 return false;
             }
         }
@@ -2783,21 +2772,6 @@ public final class Columnworks {
             pushRef(ref);
         }
 
-        /** Whether two rows have like values of so many refs of a list. */
-        boolean isLike(int[] refs, int from, int many, int row, int other) {
-            for (int i = from; i < from + many && i >= 0 && i < refs.length; i++) {
-                top = 0;
-                standAt(row);
-                pushRef(refs[i]);
-                standAt(other);
-                pushRef(refs[i]);
-                if (worked[0] != worked[1] || workedLacks[0] != workedLacks[1]) {
-                    return false;
-                }
-            }
-            return true;
-        }
-
         // -- changes
 
         /** Whether a version is there and the change's test is so for it. */
@@ -2971,25 +2945,25 @@ public final class Columnworks {
 
     /** The answers of section 4; the last one is at hand until a table changes. */
     private static final class Answers {
+        /** A row has 3 keys at most, or, for rank and run, 3 refs and the one behind along. */
+        private static final int MOST_KEYS = 4;
+
         private final Machine machine;
         private Sentence solved = null;
         private int solvedMoment = NONE;
-        /** How many rows, groups (or rows) and rows of the answer stay. */
+        /** How many rows stay, how many groups (or rows), and how many rows the answer has. */
         int joined = 0;
         int found = 0;
         int count = 0;
         int items = 0;
         private final long[] values = new long[MOST_ROWS * MOST_ITEMS];
         private final boolean[] lacking = new boolean[MOST_ROWS * MOST_ITEMS];
+        private final long[] keyValues = new long[MOST_ROWS * MOST_KEYS];
+        private final boolean[] keyLacks = new boolean[MOST_ROWS * MOST_KEYS];
         private final int[] order = new int[MOST_ROWS];
-        private final long[] keyValues = new long[MOST_ROWS * MOST_SOURCES];
-        private final boolean[] keyLacks = new boolean[MOST_ROWS * MOST_SOURCES];
-        private final int[] heads = new int[MOST_ROWS];
-        private final int[] tails = new int[MOST_ROWS];
-        private final int[] sizes = new int[MOST_ROWS];
-        private final int[] classes = new int[MOST_ROWS];
-        private final long[] alongs = new long[MOST_ROWS];
-        private final boolean[] alongLacks = new boolean[MOST_ROWS];
+        private final int[] merged = new int[MOST_ROWS];
+        /** The size of the group of which a row is the first one; 0 for other rows. */
+        private final int[] groupSizes = new int[MOST_ROWS];
         private final long[] parts = new long[MOST_ROWS];
         private final boolean[] partLacks = new boolean[MOST_ROWS];
 
@@ -3007,7 +2981,7 @@ public final class Columnworks {
             for (int source = 0; source < asked.sources; source++) {
                 own *= livingOf(asked.sourceTables[source], moment);
             }
-            if (own < 0 || own > MOST_ROWS || isSweptSince(asked, moment)) {
+            if (own > MOST_ROWS || isSweptSince(asked, moment)) {
                 return false;
             }
             for (int inner = 0; inner < asked.code.inners; inner++) {
@@ -3064,7 +3038,11 @@ public final class Columnworks {
             } else {
                 tellRows(asked);
             }
-            sortRows(asked);
+            int downs = 0;
+            for (int key = 0; key < asked.keys; key++) {
+                downs |= asked.isDown(key) ? 1 << key : 0;
+            }
+            sortRows(found, asked.keys, downs);
             count = asked.first == NONE ? found : Math.min(found, asked.first);
             solved = asked;
             solvedMoment = moment;
@@ -3103,156 +3081,193 @@ public final class Columnworks {
             for (int item = 0; item < items; item++) {
                 if (!asked.isOver(item)) {
                     machine.reckon(asked.code, asked.itemPart(item, Sentence.ROOT));
-                    values[row * items + item] = machine.result();
-                    lacking[row * items + item] = machine.isResultLack();
+                    tellItem(row, item, machine.result(), machine.isResultLack());
                 }
             }
             for (int key = 0; key < asked.keys; key++) {
                 machine.reckon(asked.code, asked.keyRoot(key));
-                keyValues[row * MOST_SOURCES + key] = machine.result();
-                keyLacks[row * MOST_SOURCES + key] = machine.isResultLack();
+                tellKey(row, key);
             }
         }
 
+        private void tellItem(int row, int item, long told, boolean isLack) {
+            values[row * items + item] = isLack ? 0 : told;
+            lacking[row * items + item] = isLack;
+        }
+
+        /** Takes what the machine worked out as a key of a row. */
+        private void tellKey(int row, int key) {
+            keyValues[row * MOST_KEYS + key] = machine.result();
+            keyLacks[row * MOST_KEYS + key] = machine.isResultLack();
+        }
+
+        /** What is over spans goes first: it takes the place of the keys while it is worked out. */
         private void tellRows(Sentence asked) {
+            for (int item = 0; item < items; item++) {
+                if (asked.isOver(item)) {
+                    tellOver(asked, item);
+                }
+            }
             for (int row = 0; row < joined; row++) {
                 machine.standAt(row);
                 tellRow(asked, row);
             }
             found = joined;
-            for (int item = 0; item < items; item++) {
-                if (asked.isOver(item)) {
-                    tellWindow(asked, item);
-                }
-            }
         }
 
         private void tellGroups(Sentence asked) {
-            int groups = asked.bys == 0 ? makeOneGroup() : makeGroups(asked);
-            for (int group = 0; group < groups; group++) {
-                machine.standAtGroup(heads[group], sizes[group]);
-                if (asked.withRoot == NONE || machine.reckon(asked.code, asked.withRoot)) {
-                    tellRow(asked, found);
-                    found++;
-                }
+            if (asked.bys == 0 && joined == 0) {
+                tellGroup(asked, NONE, 0);
+                return;
             }
-        }
-
-        private int makeOneGroup() {
-            heads[0] = joined > 0 ? 0 : NONE;
-            sizes[0] = joined;
-            return 1;
-        }
-
-        private int makeGroups(Sentence asked) {
-            int groups = 0;
+            makeGroups(asked);
             for (int row = 0; row < joined; row++) {
-                int group = 0;
-                for (int i = 0; i < groups && !machine.isLike(asked.byRefs, 0, asked.bys, row, heads[i]); i++) {
-                    group++;
+                if (groupSizes[row] > 0) {
+                    tellGroup(asked, row, groupSizes[row]);
                 }
-                if (group == groups) {
-                    heads[group] = row;
-                    sizes[group] = 0;
-                    groups++;
-                } else {
-                    machine.nextRow[tails[group]] = row;
-                }
-                tails[group] = row;
-                sizes[group]++;
             }
-            return groups;
+        }
+
+        private void tellGroup(Sentence asked, int head, int size) {
+            machine.standAtGroup(head, size);
+            if (asked.withRoot == NONE || machine.reckon(asked.code, asked.withRoot)) {
+                tellRow(asked, found);
+                found++;
+            }
+        }
+
+        /** Like rows come to stand behind one another, in their order; so the first of them heads its group. */
+        private void makeGroups(Sentence asked) {
+            for (int row = 0; row < joined; row++) {
+                machine.standAt(row);
+                for (int i = 0; i < asked.bys; i++) {
+                    machine.reckonRef(asked.byRefs[i]);
+                    tellKey(row, i);
+                }
+            }
+            sortRows(joined, asked.bys, 0);
+            int head = 0;
+            for (int i = 0; i < joined; i++) {
+                int row = order[i];
+                groupSizes[row] = 0;
+                if (i > 0 && compareKeys(head, row, asked.bys, 0) == 0) {
+                    machine.nextRow[order[i - 1]] = row;
+                } else {
+                    head = row;
+                }
+                groupSizes[head]++;
+            }
         }
 
         // -- rank and run
 
-        private void tellWindow(Sentence asked, int item) {
+        private void tellOver(Sentence asked, int item) {
             boolean isRun = asked.itemPart(item, Sentence.KIND) == Code.RUN;
-            int from = item * Sentence.ITEM_PARTS + Sentence.SPAN_REF;
             int span = asked.itemPart(item, Sentence.SPAN);
             for (int row = 0; row < joined; row++) {
-                int like = 0;
-                for (int i = 0; i < row && !(classes[i] == i && machine.isLike(asked.itemParts, from, span, row, i)); i++) {
-                    like++;
-                }
-                classes[row] = like;
                 machine.standAt(row);
+                for (int i = 0; i < span; i++) {
+                    machine.reckonRef(asked.itemPart(item, Sentence.SPAN_REF + i));
+                    tellKey(row, i);
+                }
                 machine.reckonRef(asked.itemPart(item, Sentence.ALONG));
-                alongs[row] = machine.result();
-                alongLacks[row] = machine.isResultLack();
+                tellKey(row, span);
                 if (isRun) {
                     machine.reckon(asked.code, asked.itemPart(item, Sentence.ROOT));
                     parts[row] = machine.result();
                     partLacks[row] = machine.isResultLack();
                 }
             }
-            for (int row = 0; row < joined; row++) {
-                if (isRun) {
-                    tellRun(row, item);
-                } else {
-                    tellRank(row, item);
-                }
+            sortRows(joined, span + 1, 0);
+            if (isRun) {
+                tellRuns(item, span);
+            } else {
+                tellRanks(item, span);
             }
         }
 
-        private void tellRank(int row, int item) {
+        /** Whether the row at a place of the order has other first keys than the one ahead of it. */
+        private boolean isOther(int i, int keys) {
+            return i == 0 || compareKeys(order[i - 1], order[i], keys, 0) != 0;
+        }
+
+        private void tellRanks(int item, int span) {
+            int begin = 0;
             long rank = 1;
-            for (int other = 0; other < joined; other++) {
-                if (classes[other] == classes[row] && compareAlong(other, row) < 0) {
-                    rank++;
+            for (int i = 0; i < joined; i++) {
+                if (isOther(i, span)) {
+                    begin = i;
                 }
+                if (isOther(i, span + 1)) {
+                    rank = i - begin + 1;
+                }
+                tellItem(order[i], item, rank, false);
             }
-            values[row * items + item] = rank;
-            lacking[row * items + item] = false;
         }
 
-        private void tellRun(int row, int item) {
+        private void tellRuns(int item, int span) {
             long sum = 0;
             boolean isEmpty = true;
-            for (int other = 0; other < joined; other++) {
-                if (classes[other] == classes[row] && !partLacks[other] && compareAlong(other, row) <= 0) {
-                    sum += parts[other];
-                    isEmpty = false;
+            for (int i = 0; i < joined; i++) {
+                if (isOther(i, span)) {
+                    sum = 0;
+                    isEmpty = true;
                 }
+                // all rows with the like value behind along count for each of them
+                boolean isFirst = isOther(i, span + 1);
+                for (int j = i; isFirst && j < joined && compareKeys(order[i], order[j], span + 1, 0) == 0; j++) {
+                    if (!partLacks[order[j]]) {
+                        sum += parts[order[j]];
+                        isEmpty = false;
+                    }
+                }
+                tellItem(order[i], item, sum, isEmpty);
             }
-            values[row * items + item] = sum;
-            lacking[row * items + item] = isEmpty;
-        }
-
-        private int compareAlong(int row, int other) {
-            return compareValues(alongs[row], alongLacks[row], alongs[other], alongLacks[other]);
-        }
-
-        /** LACKING is less than all numbers, and like itself. */
-        private static int compareValues(long one, boolean isLack, long other, boolean isOtherLack) {
-            if (isLack || isOtherLack) {
-                return isLack == isOtherLack ? 0 : isLack ? -1 : 1;
-            }
-            return Long.compare(one, other);
         }
 
         // -- the order
 
-        private int compareKeys(Sentence asked, int row, int other) {
-            for (int key = 0; key < asked.keys; key++) {
-                int spot = row * MOST_SOURCES + key;
-                int otherSpot = other * MOST_SOURCES + key;
-                int way = compareValues(keyValues[spot], keyLacks[spot], keyValues[otherSpot], keyLacks[otherSpot]);
+        /** LACKING is less than all numbers, and like itself. Bit k of downs tells that key k goes down. */
+        private int compareKeys(int row, int other, int keys, int downs) {
+            for (int key = 0; key < keys && key < MOST_KEYS; key++) {
+                int spot = row * MOST_KEYS + key;
+                int otherSpot = other * MOST_KEYS + key;
+                int way = 0;
+                if (keyLacks[spot] || keyLacks[otherSpot]) {
+                    way = keyLacks[spot] == keyLacks[otherSpot] ? 0 : keyLacks[spot] ? -1 : 1;
+                } else {
+                    way = Long.compare(keyValues[spot], keyValues[otherSpot]);
+                }
                 if (way != 0) {
-                    return asked.isDown(key) ? -way : way;
+                    return (downs >> key & 1) == 1 ? -way : way;
                 }
             }
             return 0;
         }
 
-        private void sortRows(Sentence asked) {
-            for (int row = 0; row < found; row++) {
-                int spot = row;
-                while (spot > 0 && compareKeys(asked, order[spot - 1], row) > 0) {
-                    order[spot] = order[spot - 1];
-                    spot--;
+        /** Orders the rows by their first keys, like ones as they are, by merging longer and longer stretches. */
+        private void sortRows(int rows, int keys, int downs) {
+            for (int row = 0; row < rows; row++) {
+                order[row] = row;
+            }
+            for (int width = 1; width < rows && keys > 0; width *= 2) {
+                for (int from = 0; from < rows; from += 2 * width) {
+                    int end = Math.min(from + 2 * width, rows);
+                    merge(from, Math.min(from + width, rows), end, keys, downs);
                 }
-                order[spot] = row;
+                System.arraycopy(merged, 0, order, 0, rows);
+            }
+        }
+
+        private void merge(int from, int middle, int end, int keys, int downs) {
+            int left = from;
+            int right = middle;
+            for (int i = from; i < end; i++) {
+                boolean isLeft = left < middle
+                        && (right >= end || compareKeys(order[left], order[right], keys, downs) <= 0);
+                merged[i] = isLeft ? order[left] : order[right];
+                left += isLeft ? 1 : 0;
+                right += isLeft ? 0 : 1;
             }
         }
     }

@@ -843,8 +843,9 @@ public final class PromiseTests {
         x.table(2);
         x.fill(0, 40, 0, 1, 1000, false);
         String[] tests = {"v0<16", "v0<=15", "v0<17", "32<=v0", "31<v0", "v0=20", "20=v0", "v0<>5", "v0=99", "[v0<16]", "not v0<16",
-            "(v0)<16", "v0<16 or v0<0", "v0=1/0", "lacks v0", "v0<(10+6)", "v0<w0", "some(from a where v1<5)", "lacks(v0)", "lacks -v0"};
-        int[] out = {2, 2, 1, 2, 2, 2, 2, 0, 3, 0, 0, 0, 0, 3, 3, 2, 0, 0, 0, 0};
+            "(v0)<16", "v0<16 or v0<0", "v0=1/0", "lacks v0", "v0<(10+6)", "v0<w0", "some(from a where v1<5)", "lacks(v0)", "lacks -v0", "v0<=16", "31<=v0", "30<v0", "v0=16", "v0=15", "15=v0",
+            "1/0<v0", "v0<>1/0", "1=2", "v0<16 and 20<v0", "not lacks v0", "v0+0<16", "[lacks v0]", "not[v0<16]"};
+        int[] out = {2, 2, 1, 2, 2, 2, 2, 0, 3, 0, 0, 0, 0, 3, 3, 2, 0, 0, 0, 0, 1, 1, 1, 2, 2, 2, 3, 3, 0, 3, 0, 0, 0, 0};
         for (int i = 0; i < tests.length; i++) {
             int n = i % 12;
             if (n == 0) {
@@ -856,7 +857,13 @@ public final class PromiseTests {
             ask("from a where " + tests[i] + " take 1;");
             due("leftOut of " + tests[i], out[i], () -> x.leftOut(n, 0, 1, false));
         }
-        due("READ", 40, () -> x.leftOut(7, 0, 1, true));
+        x = new Columnworks();
+        x.table(2);
+        x.fill(0, 40, 0, 1, 1000, false);
+        for (int i = 0; i < 8; i++) {
+            ask(i < 7 ? "from a where v0<16 take 1;" : "from a where v0<>5 take 1;");
+        }
+        due("READ", "40 16", () -> x.leftOut(7, 0, 1, true) + " " + x.leftOut(0, 0, 1, true));
         due("all are LEFT OUT as of 0", "3 0", () -> x.leftOut(7, 0, 0, false) + " " + x.leftOut(7, 0, 0, true));
         change("drop a where v<32;");
         due("dead zones", "2 8", () -> x.leftOut(7, 0, 2, false) + " " + x.leftOut(7, 0, 2, true));

@@ -60,11 +60,14 @@ public final class OracleTests {
         int calls = 0;
         boolean isWrong = false;
         final boolean isBig;
+        /** Some plays do one kind of thing again and again. */
+        final int focus;
 
         Play(long seed) {
             this.seed = seed;
             r = new Random(seed * 7919);
             isBig = r.nextInt(4) == 0;
+            focus = r.nextInt(2) == 0 ? r.nextInt(24) : -1;
         }
 
         boolean same(String name, Call mine, Call due) {
@@ -164,7 +167,7 @@ public final class OracleTests {
         }
 
         void act() {
-            switch (some(24)) {
+            switch (focus >= 0 && chance(60) ? focus : some(24)) {
                 case 0: case 1: doChange(); break;
                 case 2: doFault(); break;
                 case 3: if (chance(40)) fill(aTable()); else doSweepOrTally(); break;

@@ -147,6 +147,21 @@ public final class EdgeIndexes extends Edges {
         due("4 4 4 4 4 4 4 8|8", "eight pages", () -> pages(0));
         rising(37);
         due("4 4 4 4 4 4 4 4 5|4 5|2", "nine: the next level is cut, and gets a next one", () -> pages(0));
+        rising(37);
+        for (int i = 0; i < 5; i++) {
+            change("put a 13;");
+        }
+        due("4 4 4 4 5 4 4 4 4 5|5 5|2", "the last page of the first one of the next level is cut", () -> pages(0));
+        rising(37);
+        for (int i = 0; i < 5; i++) {
+            change("put a 17;");
+        }
+        due("4 4 4 4 4 5 4 4 4 5|4 6|2", "the first page of the second one of the next level is cut", () -> pages(0));
+        for (int i = 0; i < 5; i++) {
+            change("put a 1;");
+        }
+        due("4 5 4 4 4 4 5 4 4 4 5|5 6|2", "the first page of all is cut", () -> pages(0));
+        due(0, "errors()", () -> x.errors());
         rising(52);
         due("4 4 4 4 4 4 4 4 4 4 4 8|4 8|2", "twelve", () -> pages(0));
         rising(53);
@@ -206,6 +221,9 @@ public final class EdgeIndexes extends Edges {
         change("drop a;");
         x.sweep(0);
         due("0 ", "none is left", () -> pages(0) + " " + entries(0));
+        refused(NONE_SUCH, "a level that is there no more", () -> x.page(0, 1, 0));
+        refused(NONE_SUCH, "a page that is there no more", () -> x.page(0, 0, 1));
+        refused(NONE_SUCH, "an entry that is there no more", () -> x.entry(0, 0));
         change("put a 1;");
         due("1 0", "and one again", () -> pages(0) + " " + entries(0));
     }

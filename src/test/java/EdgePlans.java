@@ -1,3 +1,6 @@
+import java.util.ArrayList;
+import java.util.List;
+
 /** Boundary cases of zones that are left out, of estimates and plans: section 6 and the promises 25 to 28. */
 public final class EdgePlans extends Edges {
     public static void main(String[] args) {
@@ -17,6 +20,7 @@ public final class EdgePlans extends Edges {
         costs();
         costsRefused();
         best();
+        bestAmongAll();
         bestRefused();
         finish();
     }
@@ -123,11 +127,12 @@ public final class EdgePlans extends Edges {
         edge("section 6", "<> shuts out a zone of one value alone");
         x.table(1);
         x.fill(0, 16, 5, 0, 1000, false);
-        x.fill(0, 16, 5, 1, 1000, false);
+        x.fill(0, 8, 5, 1, 1000, false);
         ask("from a where v0<>5 take 1;");
         ask("from a where 5<>v0 take 1;");
         ask("from a where v0<>4 take 1;");
         due("1 1 0", "<>", () -> x.leftOut(0, 0, 2, false) + " " + x.leftOut(1, 0, 2, false) + " " + x.leftOut(2, 0, 2, false));
+        due("8 8 24", "READ", () -> x.leftOut(0, 0, 2, true) + " " + x.leftOut(1, 0, 2, true) + " " + x.leftOut(2, 0, 2, true));
         edge("section 6", "the least and the greatest long");
         x.table(1);
         x.fill(0, 2, 0, 1, 1000, false);
@@ -365,7 +370,8 @@ public final class EdgePlans extends Edges {
         cost(0L, "0", 3, 2);
         for (String plan : new String[] {"", "0", "1", "01", "0x1", "(0x1", "0x1)", "(0x1))", "((0x1))", "(0 x1)", "( 0x1)", "(0x1) ", " (0x1)",
             "(0x0)", "(1x1)", "(0x2)", "(2x0)", "(0x)", "(x1)", "(01)", "(0X1)", "(0H1)", "(0a1)", "(0+1)", "(0,1)", "(0x1x2)", "[0x1]", "(0x(1))",
-            "((0)x1)", "(0xx1)", "((0x1)x0)", "((0x1)x2)", "()", "(", ")", "x", "(0h1);", "0h1"}) {
+            "((0)x1)", "(0xx1)", "((0x1)x0)", "((0x1)x2)", "()", "(", ")", "x", "(0h1);", "0h1", "(0x1(", "(0x1]",
+            "(0x1x", "(0x11", "00x1)", "[0x1)"}) {
             lawless(plan, 1);
         }
         cost(600L, "(0x1)", 1, 8);
@@ -604,6 +610,91 @@ public final class EdgePlans extends Edges {
         due(50L, "the cost", () -> x.best(0, 2, 64));
         due("(0h1)", "the OUTPUT", () -> out());
         due(3, "the text stays", () -> x.type(0));
+    }
+
+    /** All texts of plans of so many sources, in their order; most of them are not LAWFUL. */
+    private static List<String> allPlans(int sources) {
+        List<String> plans = new ArrayList<>();
+        String[] ops = {"h", "i", "m", "x"};
+        for (int first = 0; first < sources; first++) {
+            if (sources == 1) {
+                plans.add("0");
+            }
+            for (int second = 0; second < sources && sources > 1; second++) {
+                for (String op : ops) {
+                    String two = "(" + first + op + second + ")";
+                    if (sources == 2) {
+                        plans.add(two);
+                    }
+                    for (int third = 0; third < sources && sources > 2; third++) {
+                        for (String next : ops) {
+                            plans.add("(" + two + next + third + ")");
+                            plans.add("(" + third + next + two + ")");
+                        }
+                    }
+                }
+            }
+        }
+        plans.sort(null);
+        return plans;
+    }
+
+    /** a, b and c of some sizes, the TALLIES told, the INDEXES made, and one question. */
+    private static void sources(int[] sizes, int indexes, String question) {
+        x = new Columnworks();
+        for (int table = 0; table < 3; table++) {
+            x.table(2);
+            if (sizes[table] > 0) {
+                x.fill(table, sizes[table], table, 1, 3 + 2 * table, false);
+            }
+            x.tally(table);
+            if ((indexes >> table & 1) == 1) {
+                x.index(table, 0);
+            }
+        }
+        ask(question);
+    }
+
+    private static void bestAmong(int[] sizes, int indexes, String question, int room) {
+        String least = "";
+        long cost = 0;
+        int calls = 512;
+        for (String plan : allPlans(question.substring(0, question.indexOf(' ', 5)).split(",").length)) {
+            // an object is used for so many calls alone
+            if (calls > 500) {
+                sources(sizes, indexes, question);
+                calls = 20;
+            }
+            calls += 4;
+            String found = said(() -> text(plan) < 0 ? 0 : x.cost(0, x.moment(), room));
+            if (!found.equals(ARGUMENT) && (least.isEmpty() || Long.parseLong(found) < cost)) {
+                least = plan;
+                cost = Long.parseLong(found);
+            }
+        }
+        sources(sizes, indexes, question);
+        String want = cost + " " + least;
+        due(want, "the BEST plan of " + question + " with a room of " + room, () -> x.best(0, x.moment(), room) + " " + out());
+        due(0, "errors()", () -> x.errors());
+    }
+
+    private static void bestAmongAll() {
+        edge("section 6", "The BEST plan is the lawful one with the least cost, of several that whose text is less: beside all plans");
+        int[][] sizes = {{0, 0, 0}, {1, 1, 1}, {2, 9, 40}, {40, 2, 9}, {9, 40, 2}, {64, 1, 3}, {5, 5, 64}, {30, 30, 0}};
+        String[] tests = {"", " where v0=v1", " where v1=v2", " where v0=v2 and v1=v0", " where v0=v1 and v1=v2 and v2=v0", " where v2=v1 and w0=v1"};
+        for (int i = 0; i < sizes.length; i++) {
+            for (int j = 0; j < tests.length; j++) {
+                int room = new int[] {2, 4, 8, 64}[(i + j) % 4];
+                bestAmong(sizes[i], (i * 6 + j) % 8, "from a,b,c" + tests[j] + " take 1;", room);
+            }
+        }
+        for (int indexes = 0; indexes < 8; indexes++) {
+            bestAmong(new int[] {40, 3, 20}, indexes, "from a,b,c where v0=v1 and v1=v2 take 1;", 3);
+            bestAmong(new int[] {3, 20, 40}, indexes, "from b,a where v0=v1 take 1;", 3);
+            bestAmong(new int[] {1, 64, 1}, indexes, "from c,b,a where v1=v2 and v0=v1 take 1;", 16);
+            bestAmong(new int[] {2, 60, 2}, indexes, "from b,b,a where w0=v1 and v0=v2 take 1;", 5);
+        }
+        bestAmong(new int[] {3, 20, 40}, 0, "from c take 1;", 3);
     }
 
     private static void bestRefused() {

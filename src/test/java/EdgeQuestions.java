@@ -9,6 +9,8 @@ public final class EdgeQuestions extends Edges {
         aggregates();
         ranks();
         runsOver();
+        threeRefs();
+        manyRows();
         orders();
         firsts();
         asking();
@@ -231,6 +233,55 @@ public final class EdgeQuestions extends Edges {
         answered("from a where w0<25 take run(65536*65536*65536*32768-1)over(along w0);", Long.MAX_VALUE + "|-2");
     }
 
+    /** v, w and x tell a version apart, each alone for some; y is its place. */
+    private static void threeRefs() {
+        edge("section 4", "with like values of all refs of p: three of them, and the one behind along");
+        String[] versions = {"1,1,1,9", "1,1,2,8", "1,2,1,7", "2,1,1,6", "1,1,1,5", "2,1,1,lack", "1,1,1,9"};
+        x.table(4);
+        for (String version : versions) {
+            change("put a " + version + ";");
+        }
+        due("2|1|1|2|1|1|2", "rank of three", () -> solved("from a take rank over(v0,w0,x0 along y0);"));
+        due("3|2|1|2|1|1|3", "rank of two", () -> solved("from a take rank over(v0,w0 along y0);"));
+        due("23|8|7|6|5|?|23", "run of three", () -> solved("from a take run(y0)over(v0,w0,x0 along y0);"));
+        due("23|8|5", "of those with like values", () -> solved("from a where v0=1 and w0=1 take run(y0)over(v0,w0,x0 along y0)first 3;"));
+        due("2 6|1 5|1 4|2 3|1 2|1 1|2 6", "each over its own refs", () -> solved("from a take rank over(v0,w0,x0 along y0),rank over(along y0);"));
+        due("23 7 6|8 5 5|7 4 4|6 3 3|5 2 2|? 1 1|23 7 6", "each over its own refs",
+                () -> solved("from a take run(y0)over(v0,w0,x0 along y0),run(1)over(along y0),rank over(along y0);"));
+        due("1 4 1|1 4 1|1 4 1|1 4 1", "one with fewer refs behind one with more",
+                () -> solved("from a where y0=9 or v0=2 take rank over(v0,w0,x0 along x0),run(1)over(along w0),rank over(along w0);"));
+        edge("section 4", "run: LACKING without such a row, also behind others with one");
+        x.table(2);
+        change("put a 5,1;");
+        change("put a lack,2;");
+        change("put a lack,3;");
+        change("put a 7,3;");
+        due("5|?|7|7", "of each value of w", () -> solved("from a take run(v0)over(w0 along w0);"));
+    }
+
+    private static void manyRows() {
+        edge("section 4", "500 rows of five items, ordered by three keys");
+        x.table(1);
+        x.table(1);
+        x.fill(0, 25, 0, 1, 100, false);
+        x.fill(1, 20, 0, 1, 100, false);
+        ask("from a,b take v0,v1,v0*v1,rank over(v1,v1,v1 along v0),run(1)over(along v0)order down v1,0,down v0;");
+        ask("from a,b by v0,v1 take v0,v1,count,total(v0),total(v1)order down v1,0,down v0;");
+        x.open(0, 2, 64, 64);
+        x.open(1, 2, 64, 2);
+        runOn(0);
+        runOn(1);
+        due("500 500", "the rows", () -> x.runAt(0, 3) + " " + x.runAt(1, 3));
+        due("24 19 456 25 500", "the first one", () -> x.answer(0, 0, 0) + " " + x.answer(0, 0, 1) + " " + x.answer(0, 0, 2) + " "
+                + x.answer(0, 0, 3) + " " + x.answer(0, 0, 4));
+        due("0 0 0 1 20", "the last one", () -> x.answer(0, 499, 0) + " " + x.answer(0, 499, 1) + " " + x.answer(0, 499, 2) + " "
+                + x.answer(0, 499, 3) + " " + x.answer(0, 499, 4));
+        due("23 0 1 23 0", "the last one but 23", () -> x.answer(1, 476, 0) + " " + x.answer(1, 476, 1) + " " + x.answer(1, 476, 2) + " "
+                + x.answer(1, 476, 3) + " " + x.answer(1, 476, 4));
+        refused(NONE_SUCH, "one more", () -> x.answer(0, 500, 0));
+        due(0, "errors()", () -> x.errors());
+    }
+
     private static void orders() {
         edge("section 4", "by the first key, the least value first (with down the greatest one first), of like ones by the second one, and so on");
         answered("from a take w0 order w0;", "10|20|30|40");
@@ -362,6 +413,9 @@ public final class EdgeQuestions extends Edges {
         equal(" where v1=v0", 1, 1);
         equal(" where v0=w1 and v1=v0 and v0=v1", 3, 3);
         equal(" where v0=w0", 1, 0);
+        equal(" where w0=v0", 1, 0);
+        equal(" where v1=w1", 1, 0);
+        equal(" where w1=v1 and w1=w1", 2, 0);
         equal(" where v0=v0", 1, 0);
         equal(" where v0<=v1 and v0<>v1 and v0<v1", 3, 0);
         equal(" where v0=v1+0", 1, 0);

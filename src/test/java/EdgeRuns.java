@@ -264,6 +264,16 @@ public final class EdgeRuns extends Edges {
         x.open(0, 4, 2, 64);
         runOn(1);
         due("0 4 4 1 0|8 9 5 5 0|6 5 5 3 0|7 5 5 3 0", "without the swept ones, with the new one", () -> tasks(1));
+        edge("section 7", "FOUND: for each such row, the first and the last one, too");
+        x.table(1);
+        x.table(1);
+        change("put a 2;");
+        change("put a 0;");
+        change("put a 2;");
+        x.fill(1, 7, 0, 1, 3, false);
+        x.index(1, 0);
+        // 2 has two entries, 0 has three
+        run("from a,b where v0=v1 take v0;", "(0i1)", 64, 64, "0 3 3 1 0|8 10 7 2 0|6 7 7 1 0|7 7 7 1 0");
         edge("section 7", "a left part that gives nothing");
         x.table(1);
         x.table(1);
@@ -289,6 +299,14 @@ public final class EdgeRuns extends Edges {
         run("from a take count;", "0", 2, 3, "0 9 9 1 0|4 9 1 10 9|6 1 1 1 0|7 1 1 1 0");
         run("from a where v0=7 take count;", "0", 2, 2, "0 0 0 0 0|4 0 1 0 0|6 1 1 1 0|7 1 1 1 0");
         run("from a where v0=7 by v0 take count;", "0", 2, 2, "0 0 0 0 0|4 0 0 0 0|6 0 0 0 0|7 0 0 0 0");
+        edge("section 7", "all tasks that there can be: three SCANs, two JOINs, GROUP or WINDOW, ORDER, GIVE");
+        x.table(1);
+        x.fill(0, 3, 0, 1, 100, false);
+        run("from a,a,a where v0=v1 and v1=v2 by v0 take v0,count;", "((0h1)h2)", 1, 3,
+                "0 3 3 1 0|0 3 3 1 0|2 6 3 6 0|0 3 3 1 0|2 6 3 6 0|4 3 3 3 0|6 3 3 3 0|7 3 3 3 0");
+        due("2 24 -1 3 0 0 3 8 1", "eight", () -> runAt(0));
+        run("from a,a,a where v0=v1 and v1=v2 take rank over(along v0);", "(0h(1m2))", 1, 2,
+                "0 3 3 1 0|0 3 3 1 0|0 3 3 1 0|3 6 3 12 6|2 6 3 12 6|5 3 3 6 3|6 3 3 6 3|7 3 3 3 0");
         edge("section 7", "of one with an item with over WINDOW: the same goes out");
         x.table(1);
         x.fill(0, 9, 0, 1, 3, false);

@@ -202,6 +202,17 @@ public final class EdgeTables extends Edges {
     }
 
     private static void moments() {
+        edge("promise 10", "Returns the moment");
+        due(0, "of a new object", () -> x.moment());
+        x.table(1);
+        due(0, "table() is no change", () -> x.moment());
+        change("put a 1;");
+        due(1, "behind one change", () -> x.moment());
+        refused(BOUNDS, "fill of no table", () -> x.fill(1, 1, 0, 0, 1, false));
+        due(1, "what throws is none", () -> x.moment());
+        x.fill(0, 64, 0, 0, 1, false);
+        due(2, "fill is one change", () -> x.moment());
+
         edge("section 1", "The MOMENT is 0 at first. Each change makes it 1 more (also one by which all stays the same)");
         x.table(1);
         x.table(1);
@@ -676,6 +687,13 @@ public final class EdgeTables extends Edges {
         x.fill(0, 61, 64, 1, 1000, false);
         due(375 - tooFew(), "125 versions", () -> x.tally(0));
         due(125, "125 versions", () -> x.tallied(0, 0));
+        edge("section 6", "A column has a TALLY: all five columns");
+        x.table(5);
+        due("10 10", "the last ones, at first", () -> x.tallied(0, 3) + " " + x.tallied(0, 4));
+        change("put a 1,lack,3,4,lack;");
+        change("put a 1,lack,4,4,6;");
+        due(5, "the sum", () -> x.tally(0));
+        due("1 0 2 1 1", "each of them", () -> x.tallied(0, 0) + " " + x.tallied(0, 1) + " " + x.tallied(0, 2) + " " + x.tallied(0, 3) + " " + x.tallied(0, 4));
         edge("promise 19", "IndexOutOfBoundsException if there is no such table");
         refused(BOUNDS, "no table at all", () -> x.tally(0));
         x.table(1);

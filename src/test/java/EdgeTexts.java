@@ -6,6 +6,8 @@ public final class EdgeTexts extends Edges {
         wiping();
         output();
         tokens();
+        wordsOfTheSection();
+        nothingIsLeft();
         words();
         refs();
         blanks();
@@ -246,6 +248,78 @@ public final class EdgeTexts extends Edges {
         kind1("from a take ^totals(v0);");
         kind1("from a take ^tota(v0);");
         kind1("from a take v0 order ^downv0;");
+    }
+
+    /** Each word of the section in a text that is well, and then with letters changed, left out and put in. */
+    private static void wordsOfTheSection() {
+        edge("section 3", "a row of letters that is no word of this section");
+        String all = "from a,a where not lacks v0 or v0=1 and some(from b)or v0 in(from b take v2)by v0 with count=1"
+                + " take total(w0),least(w1),most(w0)order down v0 first 1;";
+        String over = "from a take rank over(along v0),run(v0)over(v0 along w0);";
+        String[] texts = {all, over, "put a lack,1;", "set a v=1 where v=1;", "drop a;"};
+        int found = 0;
+        for (String text : texts) {
+            well(text);
+            for (int begin = 0; begin < text.length(); begin++) {
+                int end = begin;
+                while (end < text.length() && Character.isLetter(text.charAt(end))) {
+                    end++;
+                }
+                if (end - begin > 1 && (begin == 0 || !Character.isLetter(text.charAt(begin - 1)))) {
+                    found++;
+                    changed(text, begin, end);
+                }
+            }
+        }
+        int words = found;
+        due(35, "the words", () -> words);
+    }
+
+    private static void changed(String text, int begin, int end) {
+        String ahead = text.substring(0, begin) + "^";
+        String word = text.substring(begin, end);
+        String behind = text.substring(end);
+        for (int i = 0; i < word.length(); i++) {
+            told(ahead + word.substring(0, i) + "q" + word.substring(i + 1) + behind, 1);
+            told(ahead + word.substring(0, i) + word.substring(i + 1) + behind, 1);
+            told(ahead + word.substring(0, i) + "q" + word.substring(i) + behind, 1);
+        }
+        told(ahead + word + "s" + behind, 1);
+        told(ahead + word + word + behind, 1);
+    }
+
+    private static void nothingIsLeft() {
+        edge("promise 4", "the fault of the text: nothing is left of the one ahead");
+        x.table(2);
+        x.table(5);
+        String much = "from b,a,b where [v0=1]and v0=v1 and some(from a)by v0,w0 with count=2 take v0,total(w0),3 order down v0,w0 first 1";
+        text(much);
+        due("1 at " + much.indexOf("a)by"), "a text with much in it", () -> fault());
+        refused(ARGUMENT, "ask()", () -> x.ask());
+        text("from b,a where [v0=1]and v0=v1 and some(from a)by v0,w0 with count=2 take v0,total(w0),3 order down v0,w0 first 1,");
+        due(1, "a text with much in it", () -> x.fault(true));
+        due(0, "a text with little in it", () -> ask("from a take v0,w0;"));
+        due("1 0 2 0 0 0", "the question", () -> questionAt(0));
+        change("put a 3,lack;");
+        change("put a 2,lack;");
+        runOn(x.open(0, 2, 1, 2));
+        due("3 ?|2 ?", "its answer", () -> given(0, 2));
+        refused(NONE_SUCH, "no with", () -> x.program(0, 3, 0));
+        text("from a by w0 take rank over(along v0),count,-(total(v0");
+        due("1 at 54", "a text that breaks off within brackets", () -> fault());
+        text("from a where some(from b where not -(v1");
+        due("1 at 39", "a text that breaks off within an inner question", () -> fault());
+        due(1, "then one that has ten open", () -> ask("from a take ----------v0,rank over(along v0);"));
+        due(0, "not GROUPED", () -> x.questionAt(1, 4));
+        text("set a v=w where v=1");
+        due("1 at 19", "a set", () -> fault());
+        due(2, "then a drop without a test", () -> change("drop a;"));
+        text("from a where count=1 take v1;");
+        due("2 at 13", "a fault of kind 2", () -> fault());
+        text("from a where v0=1 take v0,");
+        due("1 at 26", "then one of kind 1", () -> fault());
+        text("from a where v0=1 take v0;");
+        due("0 at -1", "then none", () -> fault());
     }
 
     private static void words() {

@@ -253,6 +253,13 @@ public final class EdgeWriters extends Edges {
         write(5, "drop a where w=9;");
         change("set a w=9 where v=0;");
         due(2, "a version that was set since", () -> x.finish(5, false));
+        edge("section 10", "STRICT: the first version of a table that had none");
+        x.table(1);
+        x.begin(true);
+        write(0, "put a 5;");
+        write(0, "set a v=6 where v=5;");
+        change("put a 5;");
+        due(2, "it would be ended, too", () -> x.finish(0, false));
         due(0, "errors()", () -> x.errors());
     }
 

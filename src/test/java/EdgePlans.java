@@ -73,6 +73,21 @@ public final class EdgePlans extends Edges {
         due(0L, "the COST as of 1", () -> x.cost(0, 1, 2));
         x.wipe();
         refused(STATE, "rows() as of 1", () -> x.rows(0, 1));
+        edge("section 6", "if no version of it is alive: those that were swept count no more");
+        x.table(1);
+        x.fill(0, 3, 0, 1, 1000, false);
+        ask("from a take v0;");
+        change("drop a where v=0;");
+        x.sweep(0);
+        due("0 2", "two are alive", () -> x.leftOut(0, 0, 2, false) + " " + x.leftOut(0, 0, 2, true));
+        change("drop a;");
+        due("1 0", "both are dead", () -> x.leftOut(0, 0, 3, false) + " " + x.leftOut(0, 0, 3, true));
+        x.sweep(0);
+        due("0 0", "none is there", () -> x.leftOut(0, 0, 3, false) + " " + x.leftOut(0, 0, 3, true));
+        change("put a 1;");
+        due("0 1", "one is put", () -> x.leftOut(0, 0, 4, false) + " " + x.leftOut(0, 0, 4, true));
+        change("drop a;");
+        due("1 0", "it is dead", () -> x.leftOut(0, 0, 5, false) + " " + x.leftOut(0, 0, 5, true));
     }
 
     private static void shutByComparisons() {

@@ -128,6 +128,12 @@ public final class EdgeQuestions extends Edges {
         answered("from a where w0 in(from b,b take v1*v2*5)take w0;", "10|20");
         answered("from a where w0 in(from b take v0*10)take w0;", "10|20");
         answered("from a where v0 in(from c take 1)take w0;", "");
+        edge("section 4", "(neither LACKING): LACKING is no 0");
+        answered("from a where lacks v0 and v0 in(from b take 0)take w0;", "");
+        answered("from a where 1/0 in(from b take 0)take w0;", "");
+        answered("from a where 0 in(from b where lacks w1 take w1)take w0;", "");
+        answered("from a where lacks v0 and 0 in(from b take v0)take w0;", "");
+        answered("from a where 0 in(from b take w1-7)take w0;", "10|20|30|40");
     }
 
     private static void rowsInOrder() {

@@ -6,6 +6,7 @@ public final class EdgeRuns extends Edges {
         rooms();
         thirty();
         scans();
+        otherCallsAhead();
         joins();
         joinsByIndex();
         groupsAndWindows();
@@ -140,6 +141,18 @@ public final class EdgeRuns extends Edges {
         refused(STATE, "a closed one counts", () -> x.open(0, 0, 1, 2));
         due(2, "the last one", () -> x.runAt(28, 0));
         refused(BOUNDS, "run 30", () -> x.runAt(30, 0));
+        due(0, "errors() of 30", () -> x.errors());
+        edge("section 7", "At most 30 runs are opened: the last one can be STOPPED and go on, too");
+        x.table(1);
+        x.fill(0, 5, 0, 1, 10, false);
+        ask("from a take v0;");
+        for (int i = 0; i < 30; i++) {
+            x.open(0, 1, 1, 2);
+        }
+        due("1 0", "the last one", () -> x.turn(29) + " " + x.turn(29));
+        due(0, "errors() as all are GOING", () -> x.errors());
+        due(0, "the first one is closed as it is GOING", () -> x.close(0));
+        refused(STATE, "also behind a close()", () -> x.open(0, 1, 1, 2));
     }
 
     /** a: 40 versions, v from 0 on, the first 20 and the last one dead; b: v 0 to 4. */
@@ -188,6 +201,32 @@ public final class EdgeRuns extends Edges {
         edge("section 7", "a conjunct that is an or, as a whole");
         start();
         run("from a,b where v0<25 or v1<2 take 1;", "(0x1)", 64, 64, "0 24 19 2 0|0 5 5 1 0|1 24 53 1 0|6 53 53 1 0|7 53 53 1 0");
+    }
+
+    private static void otherCallsAhead() {
+        edge("section 7", "Zones, READ and the values are those of the tables as the run is opened: whatever was asked ahead");
+        String want = "0 24 19 2 0|0 5 5 1 0|1 24 5 30 0|6 5 5 3 0|7 5 5 3 0";
+        start();
+        ask("from a,b where v0=v1+20 take v0;");
+        ask("from b,b,a where v0=v1 and v2=20 take v0;");
+        x.begin(false);
+        x.rows(0, x.moment());
+        x.errors();
+        runOn(open("(0x1)", 0, 2, 64));
+        due(want, "behind errors()", () -> tasks(0));
+        x.rows(0, x.moment());
+        write(0, "drop b where v<3;");
+        runOn(open("(0x1)", 0, 2, 64));
+        due(want, "behind what a writer did to its view", () -> tasks(1));
+        x.rows(0, x.moment());
+        x.rows(1, x.moment());
+        runOn(open("(0x1)", 0, 2, 64));
+        due(want, "behind another question", () -> tasks(2));
+        x.rows(0, x.moment());
+        x.rows(0, 1);
+        runOn(open("(0x1)", 0, 2, 64));
+        due(want, "behind another moment", () -> tasks(3));
+        due("20|21|22|23|24", "the answer", () -> given(3, 1));
     }
 
     private static void joins() {

@@ -8,6 +8,7 @@ public final class EdgeTexts extends Edges {
         tokens();
         wordsOfTheSection();
         nothingIsLeft();
+        readManyTimes();
         words();
         refs();
         blanks();
@@ -320,6 +321,37 @@ public final class EdgeTexts extends Edges {
         due("1 at 26", "then one of kind 1", () -> fault());
         text("from a where v0=1 take v0;");
         due("0 at -1", "then none", () -> fault());
+    }
+
+    private static void readManyTimes() {
+        edge("promise 4", "the fault of the text: however often it is asked");
+        x.table(2);
+        text("from a where v0=1 and[w0=2 or lacks v0]take v0+w0*2-1,-v0 order down v0-w0,w0+1,v0;");
+        for (int i = 0; i < 60; i++) {
+            due("0 at -1", "the fault", () -> fault());
+        }
+        due(0, "ask()", () -> x.ask());
+        due("1 2 2 3 0 0", "the question", () -> questionAt(0));
+        due("w0 2 = v0 lacks or", "its conjunct", () -> program(0, 0, 1));
+        due("v0 w0 2 * + 1 -", "its item", () -> program(0, 1, 0));
+        due("w0 1 +", "its key", () -> program(0, 2, 1));
+        text("from a where some(from a)or some(from a,a where v1=v2)or v0 in(from a where w1=1 take v1)take v0;");
+        for (int i = 0; i < 30; i++) {
+            due("0 at -1", "the fault", () -> fault());
+        }
+        due(1, "ask()", () -> x.ask());
+        due("from a some from a a v1 v2 = where some or v0 from a w1 1 = where v1 in or", "inner questions", () -> program(1, 0, 0));
+
+        edge("promise 4", "the fault of a question: the next one has its own sources in its conjuncts");
+        x.table(1);
+        x.table(1);
+        x.fill(0, 5, 0, 1, 10, false);
+        x.fill(1, 3, 0, 1, 10, false);
+        text("from a,b where v0=v1 and v1=v0 take v0;");
+        due("0 at -1", "conjuncts of both sources", () -> fault());
+        ask("from a,b where v0<2 and v1=2 take v0;");
+        runOn(open("(0x1)", 0, 64, 64));
+        due("0 5 2 1 0|0 3 1 1 0|1 3 2 1 0|6 2 2 1 0|7 2 2 1 0", "conjuncts of one source each", () -> tasks(0));
     }
 
     private static void words() {

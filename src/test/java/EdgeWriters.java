@@ -1,3 +1,5 @@
+import java.lang.reflect.Array;
+
 /** Boundary cases of writers, and of the theorem: section 10 and the promises 46 to 50 and 54. */
 public final class EdgeWriters extends Edges {
     public static void main(String[] args) {
@@ -18,6 +20,7 @@ public final class EdgeWriters extends Edges {
         whatIsTold();
         viewRefused();
         theorem();
+        brokenTheorem();
         exceptionsInOrder();
         finish();
     }
@@ -310,6 +313,17 @@ public final class EdgeWriters extends Edges {
         write(1, "drop a where 31<v and v<'a';");
         change("put a 'b';");
         due("1 98 34", "three times 64 versions, but 32 that stay", () -> x.finish(1, false) + " " + x.tableAt(0, 1) + " " + x.tableAt(0, 2));
+        x.begin(true);
+        write(2, "drop a where v=5000;");
+        x.fill(0, 30, 0, 1, 1000, false);
+        due("1 128 64", "a table of 128 versions", () -> x.finish(2, false) + " " + x.tableAt(0, 1) + " " + x.tableAt(0, 2));
+        x.begin(true);
+        write(3, "set a v=v+1 where v=29;");
+        due("64 30 30", "two had 29", () -> x.view(3, 0, -1, 0) + " " + x.view(3, 0, 62, 0) + " " + x.view(3, 0, 63, 0));
+        change("drop a where v=7;");
+        refused(STATE, "two more than 128", () -> x.finish(3, false));
+        change("drop a where v=29;");
+        due(2, "those that it ended died", () -> x.finish(3, false));
     }
 
     private static void comingThrough() {
@@ -595,6 +609,108 @@ public final class EdgeWriters extends Edges {
         x.finish(1, false);
         x.close(0);
         due(0, "behind the writers, and a run that is closed", () -> x.errors());
+    }
+
+    private static Object one(String field, int number) {
+        return Array.get(within(x, field), number);
+    }
+
+    /** An object of which all can be broken: runs, one of them OVER, an INDEX of two levels, and OPEN writers. */
+    private static void whole() {
+        x = new Columnworks();
+        x.table(1);
+        x.fill(0, 20, 0, 1, 1000, false);
+        ask("from a take v0,v0+1;");
+        ask("from a,a take 1;");
+        x.index(0, 0);
+        x.keep(0);
+        x.keep(1);
+        x.open(0, 1, 64, 60);
+        runOn(0);
+        x.open(0, 1, 4, 60);
+        x.step(1, 10);
+        x.turn(1);
+        x.open(0, 1, 4, 60);
+        x.begin(false);
+        x.begin(false);
+        write(0, "drop a where v<3;");
+        write(1, "set a v=v+1 where v<2;");
+        due(0, "errors() as all is well", () -> x.errors());
+    }
+
+    private static void brokenTheorem() {
+        edge("promise 54", "Returns how many of these eight things are not so: each run has given the answer, or its beginning");
+        for (int run = 0; run < 3; run++) {
+            whole();
+            long[] values = (long[]) within(one("runs", run), "values");
+            values[values.length - 1]++;
+            due(1, "another value of the run " + run, () -> x.errors());
+            values[values.length - 1]--;
+            due(0, "mended", () -> x.errors());
+            boolean[] lacks = (boolean[]) within(one("runs", run), "lacking");
+            lacks[0] = true;
+            due(1, "another LACKING value of the run " + run, () -> x.errors());
+            x.close(run);
+            due(0, "closed", () -> x.errors());
+        }
+        edge("promise 54", "that the rooms are at most 100");
+        whole();
+        putWithin(one("runs", 1), "state", Columnworks.GOING);
+        due(1, "120", () -> x.errors());
+        edge("promise 54", "that each kept answer that is not LOST is that of section 4 as of the MOMENT");
+        whole();
+        x.fill(0, 3, 20, 1, 1000, false);
+        due("0 1", "LOST", () -> x.keptAt(0, 0) + " " + x.keptAt(1, 0));
+        putWithin(one("keeps", 1), "isLost", false);
+        due(1, "not LOST, but rows() throws", () -> x.errors());
+        edge("promise 54", "that the entries of each INDEX are the versions of its table with a value in its column, in their order");
+        whole();
+        int[] places = (int[]) within(one("indexes", 0), "places");
+        places[0] = 1;
+        due(1, "one of them twice", () -> x.errors());
+        places[1] = 0;
+        due(1, "in another order", () -> x.errors());
+        places[0] = 0;
+        places[1] = 1;
+        due(0, "mended", () -> x.errors());
+        putWithin(one("indexes", 0), "count", 19);
+        due(1, "one too few", () -> x.errors());
+        edge("promise 54", "and its pages have 1 to 8 (but one without entries)");
+        whole();
+        due("4 4 4 8|4", "its pages", () -> pages(0));
+        int[][] pages = (int[][]) within(one("indexes", 0), "pages");
+        System.arraycopy(new int[] {1, 3, 8, 8}, 0, pages[0], 0, 4);
+        due(0, "1 to 8", () -> x.errors());
+        System.arraycopy(new int[] {0, 4, 8, 8}, 0, pages[0], 0, 4);
+        due(1, "a page of none", () -> x.errors());
+        System.arraycopy(new int[] {1, 3, 7, 9}, 0, pages[0], 0, 4);
+        due(1, "a page of 9", () -> x.errors());
+        System.arraycopy(new int[] {4, 4, 4, 7}, 0, pages[0], 0, 4);
+        due(1, "an entry in no page", () -> x.errors());
+        System.arraycopy(new int[] {4, 4, 4, 8}, 0, pages[0], 0, 4);
+        due(0, "mended", () -> x.errors());
+        pages[1][0] = 3;
+        due(1, "a level above that has another number", () -> x.errors());
+        edge("promise 54", "and that for each OPEN writer no version of its views was ended by it");
+        for (int writer = 0; writer < 2; writer++) {
+            whole();
+            Object view = Array.get(within(one("writers", writer), "views"), 0);
+            int[] ended = ((int[][]) within(one("writers", writer), "ended"))[0];
+            int[] names = (int[]) within(view, "names");
+            int before = names[0];
+            names[0] = ended[0];
+            due(1, "the first one that the writer " + writer + " ended", () -> x.errors());
+            names[0] = before;
+            names[3] = ended[1];
+            due(1, "another one that the writer " + writer + " ended", () -> x.errors());
+            x.finish(writer, true);
+            due(0, "given up", () -> x.errors());
+        }
+        edge("promise 54", "Returns how many of these eight things are not so: two of them");
+        whole();
+        ((int[]) within(one("indexes", 0), "places"))[0] = 1;
+        putWithin(one("runs", 1), "state", Columnworks.GOING);
+        due(2, "an INDEX, and the rooms", () -> x.errors());
     }
 
     private static void exceptionsInOrder() {

@@ -127,6 +127,27 @@ class Edges {
         }
     }
 
+    /** What an object keeps in a field; for tests that break something within, as no call can. */
+    static Object within(Object of, String name) {
+        try {
+            Field field = of.getClass().getDeclaredField(name);
+            field.setAccessible(true);
+            return field.get(of);
+        } catch (NoSuchFieldException | IllegalAccessException e) {
+            throw new RuntimeException(e);
+        }
+    }
+
+    static void putWithin(Object of, String name, Object told) {
+        try {
+            Field field = of.getClass().getDeclaredField(name);
+            field.setAccessible(true);
+            field.set(of, told);
+        } catch (NoSuchFieldException | IllegalAccessException e) {
+            throw new RuntimeException(e);
+        }
+    }
+
     // ---- texts
 
     /** Puts a text behind the one that is there, eight signs at a call. */

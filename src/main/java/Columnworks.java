@@ -1069,7 +1069,8 @@ public final class Columnworks {
         }
 
         private int zoneSize(int zone) {
-            return Math.max(0, Math.min(ZONE, count - zone * ZONE));
+            int left = count - zone * ZONE;
+            return left < 0 ? 0 : left > ZONE ? ZONE : left;
         }
 
         /** Gathers the values of a zone that are there; returns how many. */

@@ -15,6 +15,7 @@ public final class EdgePlans extends Edges {
         estimatesRefused();
         texts();
         byEquality();
+        withoutBrackets();
         byIndex();
         passes();
         costs();
@@ -420,6 +421,26 @@ public final class EdgePlans extends Edges {
             due(true, "a source of the right part", () -> text("(1" + op + "(2x0))") == 9 && x.cost(2, 2, 8) > 0);
             due(true, "both joins", () -> text("((0" + op + "1)" + op + "2)") == 9 && x.cost(3, 2, 8) > 0);
             lawless("(0" + op + "(1" + op + "2))", 3);
+        }
+    }
+
+    private static void withoutBrackets() {
+        edge("section 6", "EQUALITIES are conjuncts that are a ref = a ref of another source (each alone on its side, without brackets)");
+        for (String equality : new String[] {"[v0=v1]", "[[v0=v1]]", "(v0)=v1", "v0=(v1)", "[(v0)=(v1)]", "not not v0=v1"}) {
+            two();
+            ask("from a,b where " + equality + " take 1;");
+            ask("from a,b where " + equality + "and w0=w1 take 1;");
+            ask("from a,b where v0=v1 take 1;");
+            x.index(1, 0);
+            due("0 1 1", "equalities of " + equality, () -> x.questionAt(0, 5) + " " + x.questionAt(1, 5) + " " + x.questionAt(2, 5));
+            due("600 60 60", "EST of " + equality, () -> x.estimate(0, 3, 2) + " " + x.estimate(1, 3, 2) + " " + x.estimate(2, 3, 2));
+            for (String op : new String[] {"h", "m", "i"}) {
+                lawless("(0" + op + "1)", 0);
+                due(true, op + " by the equality", () -> text("(0" + op + "1)") == 5 && x.cost(2, 2, 8) > 0);
+            }
+            lawless("(0i1)", 1);
+            change("drop b where 1<v;");
+            due("50 50", "the rows are those of the equality", () -> x.rows(0, 3) + " " + x.rows(2, 3));
         }
     }
 

@@ -421,6 +421,25 @@ public final class EdgeTexts extends Edges {
         kind1("set a v^3=1;");
         kind1("set a v=v^3;");
 
+        edge("section 3", "A row of letters that is one letter v to z, with a digit 0 to 2 right behind it, is one token with this digit");
+        kind1("from a take v2^2;");
+        kind1("from a take v0^1+w0;");
+        kind1("from a take v0^12345678;");
+        kind1("from a take 1+v0^'a';");
+        kind1("from a where v0^1=1 take 1;");
+        kind1("from a take 1 order w0^0;");
+        kind1("set a v=^v01;");
+        kind1("set a ^w10=1;");
+        edge("section 3", "a row of letters with other digits behind it is not");
+        kind1("from a take ^v30;");
+        kind1("from a take ^vv0;");
+        kind1("from a take ^av0;");
+        kind1("from ^v0 take 1;");
+        kind1("from a^0 take v0;");
+        kind1("set a v=w^30;");
+        kind1("set a v=w^9;");
+        well("from a where v0=1and1=v0 take 1first0;");
+
         edge("section 3", "A table is a letter a to d");
         x.table(1);
         x.table(1);
@@ -756,6 +775,9 @@ public final class EdgeTexts extends Edges {
         kind1("from b take rank over(v0,w0,x0^,y0 along z0);");
         well("from b take run(1)over(v0,v0,v0 along v0);");
         kind1("from b take run(1)over(v0,v0,v0^,v0 along v0);");
+        kind1("from b take rank over(v0,w0,x0^,along y0);");
+        kind1("from b take rank over(v0,w0,^along y0);");
+        kind1("from b take rank over(v0,w0 along x0^,y0);");
         edge("section 3", "3 keys");
         well("from a take 1 order v0,down w0,down 3;");
         kind1("from a take 1 order v0,down w0,3^,4;");
@@ -974,6 +996,15 @@ public final class EdgeTexts extends Edges {
         well("from a,a by v1 take v1,total(v0);");
         well("from a where some(from b where z1=w0)by v0 take v0;");
         well("from b by v0,w0,x0 with v0=w0 take x0;");
+        edge("section 3", "A question is GROUPED if it has by, or an aggregate anywhere behind take: also one that can't be there");
+        kind2("from a take ^rank over(along v0),run(total(v0))over(along v0);");
+        kind2("from a take ^v0,run(count)over(along v0);");
+        kind2("from a take 1+^w0 order total(count);");
+        kind2("from a take 1,^run(1)over(along v0),total(most(v0));");
+        kind2("from a where v0=1 take ^run(-(1+least(v0)))over(v0 along v0);");
+        edge("section 3", "anywhere behind take: one behind the take of an in is no such one, but behind where");
+        kind2("from a where v0 in(from b take ^count)take v0,rank over(along v0);");
+        kind2("from a where v0=^count take v0;");
         edge("section 3", "A question is GROUPED if it has by, or an aggregate anywhere behind take");
         x.table(2);
         ask("from a take v0;");
